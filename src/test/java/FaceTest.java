@@ -6,7 +6,7 @@ import java.util.Set;
 import java.util.TreeSet;
 
 /** The public face: the document's constants, constructor and methods, and no other visible member. */
-public final class FaceTest {
+public final class FaceTest extends SessionChecks {
     private static final Set<String> DUE = Set.of(
             "public static final int DONE",
             "public static final int REFUSED",
@@ -36,21 +36,20 @@ public final class FaceTest {
             "public int count(int)");
 
     public static void main(String[] args) {
-        Check check = new Check("FaceTest");
-        check.at("face");
+        at("The public face");
         Class<?> face = BlockTargetSession.class;
-        check.due("public and final", face.getModifiers() & (Modifier.PUBLIC | Modifier.FINAL),
+        due("public and final", face.getModifiers() & (Modifier.PUBLIC | Modifier.FINAL),
                 Modifier.PUBLIC | Modifier.FINAL);
         Set<String> seen = visibleMembers(face);
         for (String member : DUE) {
-            check.due("has " + member, seen.contains(member) ? 1 : 0, 1);
+            due("has " + member, seen.contains(member) ? 1 : 0, 1);
         }
         for (String member : seen) {
-            check.due("may have " + member, DUE.contains(member) ? 1 : 0, 1);
+            due("may have " + member, DUE.contains(member) ? 1 : 0, 1);
         }
-        checkPrivateNames(check, face);
-        checkConstants(check);
-        check.end();
+        checkPrivateNames(face);
+        checkConstants();
+        end("FaceTest");
     }
 
     private static Set<String> visibleMembers(Class<?> face) {
@@ -83,7 +82,7 @@ public final class FaceTest {
         return told.append(")").toString();
     }
 
-    private static void checkPrivateNames(Check check, Class<?> face) {
+    private static void checkPrivateNames(Class<?> face) {
         Set<String> publicNames = new TreeSet<>();
         for (Method method : face.getDeclaredMethods()) {
             if (Modifier.isPublic(method.getModifiers())) {
@@ -92,19 +91,20 @@ public final class FaceTest {
         }
         for (Method method : face.getDeclaredMethods()) {
             if (Modifier.isPrivate(method.getModifiers())) {
-                check.due("private name " + method.getName() + " is no public one",
+                due("private name " + method.getName() + " is no public one",
                         publicNames.contains(method.getName()) ? 1 : 0, 0);
             }
         }
     }
 
-    private static void checkConstants(Check check) {
-        check.due("DONE", BlockTargetSession.DONE, 0);
-        check.due("REFUSED", BlockTargetSession.REFUSED, -1);
-        check.due("FULL", BlockTargetSession.FULL, -2);
-        check.due("NONE", BlockTargetSession.NONE, -3);
-        check.due("CLOSED", BlockTargetSession.CLOSED, -4);
-        check.due("BROKEN", BlockTargetSession.BROKEN, -5);
-        check.due("ABSENT", BlockTargetSession.ABSENT, -1000000000000L);
+    private static void checkConstants() {
+        at("The constants");
+        due("DONE", BlockTargetSession.DONE, 0);
+        due("REFUSED", BlockTargetSession.REFUSED, -1);
+        due("FULL", BlockTargetSession.FULL, -2);
+        due("NONE", BlockTargetSession.NONE, -3);
+        due("CLOSED", BlockTargetSession.CLOSED, -4);
+        due("BROKEN", BlockTargetSession.BROKEN, -5);
+        due("ABSENT", BlockTargetSession.ABSENT, -1000000000000L);
     }
 }

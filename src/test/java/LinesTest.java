@@ -1,465 +1,514 @@
-/** Promises 5 to 7, 17 and 18: send, deliver, damage, message and waiting. */
-public final class LinesTest {
-    private static final int DONE = BlockTargetSession.DONE;
-    private static final int REFUSED = BlockTargetSession.REFUSED;
-    private static final int FULL = BlockTargetSession.FULL;
-    private static final int NONE = BlockTargetSession.NONE;
-    private static final int CLOSED = BlockTargetSession.CLOSED;
-    private static final int BROKEN = BlockTargetSession.BROKEN;
-    private static final Check check = new Check("LinesTest");
+import java.util.function.Supplier;
 
+/** Promises 5 to 7, 17 and 18: send, deliver, damage, message and waiting. */
+public final class LinesTest extends SessionChecks {
     public static void main(String[] args) {
         sendTakesTheLeastOpenRequest();
-        sendTestsInOrder();
-        creditComesWithDownMessages();
-        creditNeverFalls();
+        sendTakesAReopenedRequestFirst();
+        sendGoesUpToTheCredit();
+        sendNeedsASession();
+        sendNeedsAnOpenRequest();
+        sendTestsOpenBeforeCredit();
+        deliverNeedsASession();
+        deliverNeedsAMessage();
+        deliverTakesTheOldest();
         deliverAnswersTheKind();
-        deliverWithoutMessages();
-        longWriteIsAskedFor();
-        writesAreInterleaved();
-        readGoesDownInPieces();
-        syncGoesDownAsStatus();
-        damagedMessageBreaksUp();
-        damagedMessageBreaksDown();
-        damageCountsFromTheOldest();
-        damageWithoutMessage();
-        slotsAreUsedAgainUndamaged();
+        damagedCommandIsNotWorked();
+        damagedDataIsNotWorked();
+        damagedDownMessageIsNotTaken();
+        onlyTheOldestBreaks();
+        damageIsOfOneMessage();
+        damageAgainIsDone();
+        damageNeedsAMessage();
+        laterMessagesAreNotDamaged();
         messageTellsItsFields();
-        messageWithoutMessageOrField();
-        fullLinesAreHeld();
+        messageNeedsAMessage();
+        messageNeedsAField();
         waitingFollowsTheLines();
-        check.end();
-    }
-
-    private static void messageDue(BlockTargetSession x, boolean up, int n, int... fields) {
-        for (int field = 0; field < fields.length; field++) {
-            check.due("message(" + up + ", " + n + ", " + field + ")", x.message(up, n, field), fields[field]);
-        }
+        waitingAtTheLongest();
+        longestLinesFromEveryBeginning();
+        end("LinesTest");
     }
 
     private static void sendTakesTheLeastOpenRequest() {
-        check.at("promise 5, order");
+        at("promise 5: the OPEN request with the least number: SENT, SENDS grows by one, a COMMAND of it goes up");
         BlockTargetSession x = new BlockTargetSession(4, 2);
         x.write(0, 1, 1);
         x.read(0, 1);
         x.sync();
-        check.due("send()", x.send(), 0);
-        check.due("state(0)", x.state(0), 1);
-        check.due("count(5)", x.count(5), 1);
-        check.due("send()", x.send(), 1);
-        check.due("count(5)", x.count(5), 2);
-        check.due("waiting(true)", x.waiting(true), 2);
-        messageDue(x, true, 0, 0, 0, 0, 0, 0);
-        messageDue(x, true, 1, 1, 0, 0, 0, 0);
-        x.deliver(true);
-        x.deliver(false);
-        x.drop();
-        x.login();
-        check.due("count(5) in the new session", x.count(5), 0);
-        check.due("send(), request 0 is GOOD", x.send(), 1);
-        check.due("send()", x.send(), 2);
-        check.due("send()", x.send(), NONE);
-        check.due("count(5)", x.count(5), 2);
-    }
-
-    private static void sendTestsInOrder() {
-        check.at("promise 5, order of tests");
-        BlockTargetSession x = new BlockTargetSession(1, 2);
-        check.due("send() with no request", x.send(), NONE);
-        x.sync();
-        check.due("send()", x.send(), 0);
-        check.due("send() with none OPEN and no credit", x.send(), NONE);
-        x.sync();
-        check.due("send() with no credit", x.send(), FULL);
-        check.due("state(1)", x.state(1), 0);
-        check.due("waiting(true)", x.waiting(true), 1);
-        check.due("count(5)", x.count(5), 1);
-        x.drop();
-        check.due("send() with OPEN ones and no session", x.send(), CLOSED);
-        BlockTargetSession y = new BlockTargetSession(1, 2);
-        y.drop();
-        check.due("send() with no request and no session", y.send(), CLOSED);
-    }
-
-    private static void creditComesWithDownMessages() {
-        check.at("promise 5, credit");
-        BlockTargetSession x = new BlockTargetSession(2, 2);
-        for (int i = 0; i < 6; i++) {
-            x.write(i, 1, i);
+        due("send()", x.send(), 0);
+        statesDue(x, SENT, OPEN, OPEN);
+        sessionDue(x, 1, 0, 4);
+        linesDue(x, 1, 0);
+        due("send()", x.send(), 1);
+        due("send(), the last one", x.send(), 2);
+        statesDue(x, SENT, SENT, SENT);
+        sessionDue(x, 3, 0, 4);
+        linesDue(x, 3, 0);
+        for (int n = 0; n < 3; n++) {
+            messageDue(x, true, n, n, COMMAND, 0, 0, 0);
         }
-        x.send();
-        x.send();
-        x.deliver(true);
-        check.due("count(6) after finishing", x.count(6), 1);
-        check.due("count(7) before the STATUS is taken", x.count(7), 2);
-        check.due("send()", x.send(), FULL);
-        x.deliver(true);
-        x.deliver(false);
-        check.due("count(7), one STATUS taken", x.count(7), 3);
-        check.due("send()", x.send(), 2);
-        check.due("send()", x.send(), FULL);
-        x.deliver(false);
-        check.due("count(7), two STATUS taken", x.count(7), 4);
-        check.due("send()", x.send(), 3);
-        check.due("send()", x.send(), FULL);
+        presentDue(x, 0, 0);
     }
 
-    private static void creditNeverFalls() {
-        check.at("promise 6, credit by ASK and PIECE");
-        BlockTargetSession x = new BlockTargetSession(2, 2);
-        x.write(0, 2, 1);
-        x.write(4, 1, 9);
+    private static void sendTakesAReopenedRequestFirst() {
+        at("promise 5: the OPEN request with the least number, after a break");
+        BlockTargetSession x = Scenes.closed();
+        due("login()", x.login(), 4);
+        due("send(), 0 to 2 are GOOD", x.send(), 3);
+        due("send()", x.send(), 4);
+        due("send()", x.send(), 5);
+        due("send()", x.send(), FULL);
+        sessionDue(x, 3, 0, 3);
+        Drive.settle(x);
+        due("send()", x.send(), 6);
+        due("send()", x.send(), NONE);
+    }
+
+    /** A session with so many commands sent of which the first so many are GOOD, and one OPEN request more. */
+    private static BlockTargetSession sentAndGood(int window, int sent, int good) {
+        BlockTargetSession x = new BlockTargetSession(window, 2);
+        for (int i = 0; i <= sent; i++) {
+            x.sync();
+        }
+        for (int i = 0; i < good; i++) {
+            x.send();
+            x.deliver(true);
+            x.deliver(false);
+        }
+        Drive.send(x, sent - good);
+        return x;
+    }
+
+    private static void sendGoesUpToTheCredit() {
+        at("promise 5: SENDS is not below CREDIT: FULL");
+        for (int window = 1; window <= 4; window++) {
+            for (int good = 0; good <= 2; good++) {
+                int w = window;
+                int g = good;
+                BlockTargetSession below = sentAndGood(w, g + w - 1, g);
+                sessionDue(below, g + w - 1, g, g + w);
+                due("send(), SENDS one below CREDIT", below.send(), g + w - 1);
+                sessionDue(below, g + w, g, g + w);
+                Supplier<BlockTargetSession> at = () -> sentAndGood(w, g + w, g);
+                sessionDue(at.get(), g + w, g, g + w);
+                still(at, "send(), SENDS at CREDIT", x -> x.send(), FULL);
+            }
+        }
+        BlockTargetSession x = sentAndGood(2, 2, 0);
+        x.deliver(true);
+        due("send(), finished but its STATUS not taken", x.send(), FULL);
+        x.deliver(false);
+        due("send(), its STATUS taken", x.send(), 2);
+    }
+
+    private static void sendNeedsASession() {
+        at("promise 5: no session: CLOSED");
+        still(Scenes::closed, "send() with OPEN requests", x -> x.send(), CLOSED);
+        still(() -> dropped(Scenes.fresh()), "send() without requests", x -> x.send(), CLOSED);
+        still(() -> dropped(readOneThrough()), "send() with GOOD requests alone", x -> x.send(), CLOSED);
+        BlockTargetSession x = Scenes.closed();
+        x.login();
+        due("send() in a new session", x.send(), 3);
+    }
+
+    private static BlockTargetSession dropped(BlockTargetSession x) {
+        x.drop();
+        return x;
+    }
+
+    private static BlockTargetSession readOneThrough() {
+        BlockTargetSession x = new BlockTargetSession(1, 1);
+        Drive.readThrough(x, 0, 1);
+        return x;
+    }
+
+    private static void sendNeedsAnOpenRequest() {
+        at("promise 5: no request is OPEN: NONE");
+        still(Scenes::fresh, "send() without requests", x -> x.send(), NONE);
+        still(LinesTest::readOneThrough, "send() with GOOD requests alone", x -> x.send(), NONE);
+        still(Scenes::readWorked, "send() with SENT and GOOD requests alone", x -> x.send(), NONE);
+        BlockTargetSession x = Scenes.readWorked();
+        x.sync();
+        due("send() with one OPEN", x.send(), 3);
+    }
+
+    private static void sendTestsOpenBeforeCredit() {
+        at("promise 5: Tested in this order: no request is OPEN: NONE; SENDS is not below CREDIT: FULL");
+        BlockTargetSession x = new BlockTargetSession(1, 2);
+        x.sync();
         x.send();
-        x.send();
-        x.deliver(true);
-        x.deliver(true);
-        messageDue(x, false, 0, 0, 2, 1, 2, 0);
-        messageDue(x, false, 1, 1, 4, 0, 3, 0);
-        x.deliver(false);
-        check.due("count(7) after an ASK of the beginning", x.count(7), 2);
-        x.deliver(false);
-        check.due("count(7) after the STATUS", x.count(7), 3);
-        x.read(0, 1);
-        check.due("send()", x.send(), 2);
-        x.deliver(true);
-        messageDue(x, false, 0, 0, 4, 0, 4, 0);
-        x.deliver(true);
-        messageDue(x, false, 1, 2, 3, 0, 4, 0);
-        messageDue(x, false, 2, 2, 4, 0, 5, 0);
-        x.deliver(false);
-        x.deliver(false);
-        check.due("count(7) after a PIECE", x.count(7), 4);
-        x.deliver(false);
-        check.due("count(7)", x.count(7), 5);
+        sessionDue(x, 1, 0, 1);
+        due("send(), none OPEN and SENDS at CREDIT", x.send(), NONE);
+        x.sync();
+        due("send(), one OPEN and SENDS at CREDIT", x.send(), FULL);
+        x.drop();
+        due("send(), one OPEN and no session", x.send(), CLOSED);
+    }
+
+    private static void deliverNeedsASession() {
+        at("promise 6: No session: CLOSED");
+        still(Scenes::closed, "deliver(true)", x -> x.deliver(true), CLOSED);
+        still(Scenes::closed, "deliver(false)", x -> x.deliver(false), CLOSED);
+        BlockTargetSession x = Scenes.closed();
+        x.login();
+        due("deliver(true) in a new session", x.deliver(true), NONE);
+        due("deliver(false) in a new session", x.deliver(false), NONE);
+    }
+
+    private static void deliverNeedsAMessage() {
+        at("promise 6: the line is empty: NONE");
+        still(Scenes::fresh, "deliver(true)", x -> x.deliver(true), NONE);
+        still(Scenes::fresh, "deliver(false)", x -> x.deliver(false), NONE);
+        still(() -> sentAndGood(2, 2, 0), "deliver(false), UP has two", x -> x.deliver(false), NONE);
+        BlockTargetSession x = sentAndGood(2, 1, 0);
+        due("deliver(true), UP has one", x.deliver(true), COMMAND);
+        linesDue(x, 0, 1);
+        due("deliver(true), DOWN has one", x.deliver(true), NONE);
+        due("deliver(false), DOWN has one", x.deliver(false), STATUS);
+        linesDue(x, 0, 0);
+        due("deliver(false), none is left", x.deliver(false), NONE);
+    }
+
+    private static void deliverTakesTheOldest() {
+        at("promise 6: The oldest message of the line is taken off it");
+        BlockTargetSession x = new BlockTargetSession(4, 2);
+        for (int i = 0; i < 4; i++) {
+            x.write(i, 1, 10 + i);
+        }
+        Drive.send(x, 4);
+        for (int i = 0; i < 4; i++) {
+            messageDue(x, true, 0, i, COMMAND);
+            due("deliver(true)", x.deliver(true), COMMAND);
+            linesDue(x, 3 - i, i + 1);
+            due("present(" + i + ")", x.present(i), 10 + i);
+        }
+        for (int i = 0; i < 4; i++) {
+            messageDue(x, false, 0, i, STATUS);
+            due("deliver(false)", x.deliver(false), STATUS);
+            linesDue(x, 0, 3 - i);
+            due("state(" + i + ")", x.state(i), GOOD);
+            due("count(3)", x.count(3), i + 1);
+        }
     }
 
     private static void deliverAnswersTheKind() {
-        check.at("promise 6, kinds");
-        BlockTargetSession x = new BlockTargetSession(4, 2);
+        at("promise 6: Else its kind, 0 .. 4");
+        BlockTargetSession x = Scenes.fresh();
         x.write(0, 2, 1);
         x.read(0, 1);
         x.send();
-        check.due("COMMAND", x.deliver(true), 0);
-        check.due("ASK", x.deliver(false), 2);
-        check.due("DATA", x.deliver(true), 1);
-        check.due("STATUS", x.deliver(false), 4);
+        due("COMMAND", x.deliver(true), 0);
+        due("ASK", x.deliver(false), 2);
+        due("DATA", x.deliver(true), 1);
+        due("STATUS", x.deliver(false), 4);
         x.send();
-        check.due("COMMAND", x.deliver(true), 0);
-        check.due("PIECE", x.deliver(false), 3);
-        check.due("STATUS", x.deliver(false), 4);
+        due("COMMAND", x.deliver(true), 0);
+        due("PIECE", x.deliver(false), 3);
+        due("STATUS", x.deliver(false), 4);
     }
 
-    private static void deliverWithoutMessages() {
-        check.at("promise 6, nothing to deliver");
-        BlockTargetSession x = new BlockTargetSession(4, 2);
-        check.due("deliver(true)", x.deliver(true), NONE);
-        check.due("deliver(false)", x.deliver(false), NONE);
-        x.sync();
-        x.send();
-        check.due("deliver(false), the other line has one", x.deliver(false), NONE);
-        x.deliver(true);
-        check.due("deliver(true), the other line has one", x.deliver(true), NONE);
-        x.drop();
-        check.due("deliver(true) without a session", x.deliver(true), CLOSED);
-        check.due("deliver(false) without a session", x.deliver(false), CLOSED);
-    }
-
-    private static void longWriteIsAskedFor() {
-        check.at("promise 6, a write of three");
-        BlockTargetSession x = new BlockTargetSession(1, 6);
-        x.write(9, 3, 30);
-        x.send();
-        x.deliver(true);
-        messageDue(x, false, 0, 0, 2, 1, 1, 0);
-        check.due("count(6)", x.count(6), 0);
-        x.deliver(false);
-        messageDue(x, true, 0, 0, 1, 1, 0, 0);
-        x.deliver(true);
-        messageDue(x, false, 0, 0, 2, 2, 1, 0);
-        check.due("present(9) before the last DATA", x.present(9), 0);
-        check.due("count(4) before the last DATA", x.count(4), 0);
-        x.deliver(false);
-        messageDue(x, true, 0, 0, 1, 2, 0, 0);
-        x.deliver(true);
-        messageDue(x, false, 0, 0, 4, 0, 2, 0);
-        check.due("waiting(false)", x.waiting(false), 1);
-        check.due("count(6)", x.count(6), 1);
-        for (int i = 0; i < 3; i++) {
-            check.due("cached(" + i + ")", x.cached(i), 9 + i);
-            check.due("present", x.present(9 + i), 30 + i);
-        }
-        check.due("count(3)", x.count(3), 0);
-        x.deliver(false);
-        check.due("count(3)", x.count(3), 1);
-    }
-
-    private static void writesAreInterleaved() {
-        check.at("promise 6, two writes at once");
-        BlockTargetSession x = new BlockTargetSession(2, 6);
-        x.write(0, 2, 10);
-        x.write(1, 2, 20);
-        x.send();
-        x.send();
-        x.deliver(true);
-        x.deliver(true);
-        x.deliver(false);
-        x.deliver(false);
-        messageDue(x, true, 0, 0, 1, 1);
-        messageDue(x, true, 1, 1, 1, 1);
-        x.deliver(true);
-        check.due("present(1) after the first", x.present(1), 11);
-        x.deliver(true);
-        check.due("present(1) after the second", x.present(1), 20);
-        check.due("present(0)", x.present(0), 10);
-        check.due("present(2)", x.present(2), 21);
-        check.due("cached(0)", x.cached(0), 0);
-        check.due("cached(1)", x.cached(1), 1);
-        check.due("cached(2)", x.cached(2), 2);
-        messageDue(x, false, 0, 0, 4, 0, 3);
-        messageDue(x, false, 1, 1, 4, 0, 4);
-    }
-
-    private static void readGoesDownInPieces() {
-        check.at("promise 6, a read of three");
-        BlockTargetSession x = new BlockTargetSession(3, 1);
-        Drive.writeThrough(x, 13, 2, 5);
-        x.read(13, 3);
-        x.send();
-        x.deliver(true);
-        check.due("waiting(false)", x.waiting(false), 4);
-        for (int i = 0; i < 3; i++) {
-            messageDue(x, false, i, 1, 3, i, 4, 0);
-        }
-        messageDue(x, false, 3, 1, 4, 0, 5, 0);
-        check.due("count(6)", x.count(6), 2);
-        check.due("a read leaves the cache", x.count(4), 1);
-        check.due("cached(0)", x.cached(0), 14);
-        Drive.settle(x);
-        check.due("result(1, 0)", x.result(1, 0), 5);
-        check.due("result(1, 1)", x.result(1, 1), 6);
-        check.due("result(1, 2)", x.result(1, 2), 0);
-    }
-
-    private static void syncGoesDownAsStatus() {
-        check.at("promise 6, a sync");
-        BlockTargetSession x = new BlockTargetSession(3, 6);
-        Drive.writeThrough(x, 2, 3, 5);
-        x.sync();
-        x.send();
-        check.due("count(4) before", x.count(4), 3);
-        x.deliver(true);
-        messageDue(x, false, 0, 1, 4, 0, 5, 0);
-        check.due("waiting(false)", x.waiting(false), 1);
-        check.due("count(4)", x.count(4), 0);
-        for (int i = 0; i < 3; i++) {
-            check.due("disk", x.disk(2 + i), 5 + i);
-        }
-        x.deliver(false);
-        check.due("a sync of an empty cache", x.sync(), 2);
-        Drive.finishAll(x);
-        check.due("state(2)", x.state(2), 2);
-    }
-
-    private static void damagedMessageBreaksUp() {
-        check.at("promise 6, damaged on the way up");
+    private static void damagedCommandIsNotWorked() {
+        at("promise 6: It is DAMAGED: it isn't worked, the session BREAKS, and BROKEN is answered; a COMMAND");
         BlockTargetSession x = new BlockTargetSession(4, 6);
-        x.write(0, 1, 7);
+        Drive.writeThrough(x, 0, 1, 7);
         x.write(1, 1, 8);
-        x.write(2, 2, 9);
+        x.sync();
         x.send();
-        x.send();
-        x.send();
-        check.due("damage(true, 1)", x.damage(true, 1), DONE);
-        check.due("deliver(true), not damaged", x.deliver(true), 0);
-        check.due("deliver(true), damaged", x.deliver(true), BROKEN);
-        check.due("the damaged one isn't worked", x.present(1), 0);
-        check.due("the cache stays", x.present(0), 7);
-        check.due("waiting(true)", x.waiting(true), 0);
-        check.due("waiting(false)", x.waiting(false), 0);
-        for (int request = 0; request < 3; request++) {
-            check.due("state(" + request + ")", x.state(request), 0);
-        }
-        check.due("deliver(true)", x.deliver(true), CLOSED);
-        check.due("count(5)", x.count(5), 0);
-        check.due("count(6)", x.count(6), 0);
-        check.due("count(7)", x.count(7), 0);
-        check.due("count(8)", x.count(8), 1);
+        x.damage(true, 0);
+        due("deliver(true), a WRITE", x.deliver(true), BROKEN);
+        presentDue(x, 0, 7, 0);
+        cacheDue(x, 0);
+        statesDue(x, GOOD, OPEN, OPEN);
+        linesDue(x, 0, 0);
+        sessionDue(x, 0, 0, 0);
+        due("deliver(true), the session is broken", x.deliver(true), CLOSED);
+        due("login()", x.login(), 2);
+        Drive.send(x, 2);
+        x.damage(true, 1);
+        due("deliver(true), the WRITE again", x.deliver(true), COMMAND);
+        due("deliver(true), a SYNC", x.deliver(true), BROKEN);
+        cacheDue(x, 0, 1);
+        diskDue(x, 0, 0, 0);
+        presentDue(x, 0, 7, 8);
+        statesDue(x, GOOD, OPEN, OPEN);
     }
 
-    private static void damagedMessageBreaksDown() {
-        check.at("promise 6, damaged on the way down");
-        BlockTargetSession x = new BlockTargetSession(4, 6);
-        x.write(0, 1, 7);
-        x.sync();
+    private static void damagedDataIsNotWorked() {
+        at("promise 6: It is DAMAGED: it isn't worked; a DATA");
+        BlockTargetSession x = Scenes.fresh();
+        x.write(5, 2, 20);
+        x.send();
+        x.deliver(true);
+        x.deliver(false);
+        messageDue(x, true, 0, 0, DATA, 1, 0, 0);
+        x.damage(true, 0);
+        due("deliver(true)", x.deliver(true), BROKEN);
+        presentDue(x, 5, 0, 0);
+        cacheDue(x);
+        statesDue(x, OPEN);
+        linesDue(x, 0, 0);
+    }
+
+    private static void damagedDownMessageIsNotTaken() {
+        at("promise 6: It is DAMAGED: it isn't worked; a DOWN message");
+        BlockTargetSession x = Scenes.fresh();
+        x.write(5, 2, 20);
         x.send();
         x.deliver(true);
         x.damage(false, 0);
-        check.due("deliver(false)", x.deliver(false), BROKEN);
-        check.due("state(0)", x.state(0), 0);
-        check.due("the write was done all the same", x.present(0), 7);
-        check.due("login()", x.login(), 2);
-        check.due("send(), the write again", x.send(), 0);
-        check.due("deliver(true)", x.deliver(true), 0);
-        check.due("deliver(false)", x.deliver(false), 4);
-        check.due("state(0)", x.state(0), 2);
+        due("deliver(false), an ASK", x.deliver(false), BROKEN);
+        linesDue(x, 0, 0);
+        statesDue(x, OPEN);
+        BlockTargetSession y = Scenes.fresh();
+        y.write(0, 1, 7);
+        y.send();
+        y.deliver(true);
+        y.damage(false, 0);
+        due("deliver(false), a STATUS", y.deliver(false), BROKEN);
+        statesDue(y, OPEN);
+        sessionDue(y, 0, 0, 0);
+        presentDue(y, 0, 7);
+        BlockTargetSession z = Scenes.readWorked();
+        z.damage(false, 0);
+        due("deliver(false), a PIECE", z.deliver(false), BROKEN);
+        statesDue(z, GOOD, OPEN, OPEN);
+        resultsDue(z, 1, ABSENT);
+        due("count(8)", z.count(8), 1);
     }
 
-    private static void damageCountsFromTheOldest() {
-        check.at("promise 7, which message");
-        BlockTargetSession x = new BlockTargetSession(4, 6);
-        x.read(0, 3);
-        x.send();
-        x.deliver(true);
-        check.due("damage(false, 2)", x.damage(false, 2), DONE);
-        check.due("damage(false, 2) again", x.damage(false, 2), DONE);
+    private static void onlyTheOldestBreaks() {
+        at("promise 6: The oldest message of the line; It is DAMAGED");
+        BlockTargetSession x = Scenes.readWorked();
+        x.damage(false, 1);
+        x.damage(true, 0);
+        due("deliver(false), those behind and UP are damaged", x.deliver(false), PIECE);
+        linesDue(x, 1, 3);
+        due("deliver(false), the damaged one", x.deliver(false), BROKEN);
+        linesDue(x, 0, 0);
+        BlockTargetSession y = Scenes.readWorked();
+        y.damage(false, 0);
+        due("deliver(true), DOWN is damaged", y.deliver(true), COMMAND);
+        messageDue(y, false, 0, 1, PIECE, 0, 5, 1);
+        due("deliver(false)", y.deliver(false), BROKEN);
+    }
+
+    private static void damageIsOfOneMessage() {
+        at("promise 7: Message n (from 0, the oldest) of the line becomes DAMAGED: DONE");
         for (int n = 0; n < 4; n++) {
-            check.due("message(false, " + n + ", 4)", x.message(false, n, 4), n == 2 ? 1 : 0);
+            BlockTargetSession x = Scenes.readWorked();
+            due("damage(false, " + n + ")", x.damage(false, n), DONE);
+            for (int k = 0; k < 4; k++) {
+                due("message(false, " + k + ", 4)", x.message(false, k, 4), k == n ? 1 : 0);
+            }
+            due("message(true, 0, 4)", x.message(true, 0, 4), 0);
+            linesDue(x, 1, 4);
+            for (int k = 0; k < n; k++) {
+                due("deliver(false), before the damaged one", x.deliver(false), PIECE);
+            }
+            due("deliver(false), the damaged one", x.deliver(false), BROKEN);
         }
-        messageDue(x, false, 2, 0, 3, 2, 4, 1);
-        check.due("deliver(false)", x.deliver(false), 3);
-        check.due("message(false, 1, 4)", x.message(false, 1, 4), 1);
-        check.due("deliver(false)", x.deliver(false), 3);
-        check.due("deliver(false)", x.deliver(false), BROKEN);
+        BlockTargetSession x = Scenes.readWorked();
+        due("damage(true, 0)", x.damage(true, 0), DONE);
+        messageDue(x, true, 0, 2, COMMAND, 0, 0, 1);
+        due("message(false, 0, 4)", x.message(false, 0, 4), 0);
+        due("deliver(true)", x.deliver(true), BROKEN);
     }
 
-    private static void damageWithoutMessage() {
-        check.at("promise 7, no such message");
-        BlockTargetSession x = new BlockTargetSession(4, 6);
-        check.due("damage(true, 0)", x.damage(true, 0), NONE);
-        check.due("damage(false, 0)", x.damage(false, 0), NONE);
-        x.sync();
-        x.send();
-        String before = Drive.tell(x);
-        check.due("damage(false, 0)", x.damage(false, 0), NONE);
-        check.due("damage(true, 1)", x.damage(true, 1), NONE);
-        check.due("damage(true, -1)", x.damage(true, -1), NONE);
-        check.due("damage(true, MIN)", x.damage(true, Integer.MIN_VALUE), NONE);
-        check.due("damage(true, MAX)", x.damage(true, Integer.MAX_VALUE), NONE);
-        check.due("nothing is changed", before.equals(Drive.tell(x)) ? 1 : 0, 1);
-        x.drop();
-        check.due("damage(true, 0) without a session", x.damage(true, 0), NONE);
+    private static BlockTargetSession damagedTwo() {
+        BlockTargetSession x = Scenes.readWorked();
+        x.damage(false, 2);
+        x.damage(true, 0);
+        return x;
     }
 
-    private static void slotsAreUsedAgainUndamaged() {
-        check.at("promise 7, messages after a break");
-        BlockTargetSession x = new BlockTargetSession(2, 6);
+    private static void damageAgainIsDone() {
+        at("promise 7: becomes DAMAGED, also if it was: DONE");
+        still(LinesTest::damagedTwo, "damage(false, 2) again", x -> x.damage(false, 2), DONE);
+        still(LinesTest::damagedTwo, "damage(true, 0) again", x -> x.damage(true, 0), DONE);
+    }
+
+    private static void damageNeedsAMessage() {
+        at("promise 7: No such message: NONE");
+        for (int n : new int[] {MIN, -2, -1, 4, 5, 16, MAX}) {
+            still(Scenes::readWorked, "damage(false, " + n + ")", x -> x.damage(false, n), NONE);
+        }
+        for (int n : new int[] {MIN, -1, 1, 2, 3, 4, MAX}) {
+            still(Scenes::readWorked, "damage(true, " + n + ")", x -> x.damage(true, n), NONE);
+        }
+        for (boolean up : new boolean[] {true, false}) {
+            still(Scenes::fresh, "damage(" + up + ", 0), empty lines", x -> x.damage(up, 0), NONE);
+            still(Scenes::fresh, "damage(" + up + ", -1), empty lines", x -> x.damage(up, -1), NONE);
+            still(Scenes::closed, "damage(" + up + ", 0), no session", x -> x.damage(up, 0), NONE);
+            still(Scenes::closed, "damage(" + up + ", -1), no session", x -> x.damage(up, -1), NONE);
+        }
+    }
+
+    private static void laterMessagesAreNotDamaged() {
+        at("promise 7: the messages that come after a damaged one");
+        BlockTargetSession x = Scenes.fresh();
         x.read(0, 2);
         for (int round = 0; round < 3; round++) {
             x.send();
+            messageDue(x, true, 0, 0, COMMAND, 0, 0, 0);
             x.damage(true, 0);
-            x.deliver(true);
+            due("deliver(true)", x.deliver(true), BROKEN);
             x.login();
             x.send();
-            messageDue(x, true, 0, 0, 0, 0, 0, 0);
-            x.deliver(true);
+            due("deliver(true)", x.deliver(true), COMMAND);
             for (int n = 0; n < 3; n++) {
-                check.due("message(false, n, 4)", x.message(false, n, 4), 0);
+                due("message(false, " + n + ", 4)", x.message(false, n, 4), 0);
                 x.damage(false, n);
             }
-            check.due("deliver(false)", x.deliver(false), BROKEN);
+            due("deliver(false)", x.deliver(false), BROKEN);
             x.login();
         }
         Drive.finishAll(x);
-        check.due("state(0)", x.state(0), 2);
+        statesDue(x, GOOD);
     }
 
     private static void messageTellsItsFields() {
-        check.at("promise 17");
+        at("promise 17: its request, kind, number i, the number it carries, DAMAGED");
         BlockTargetSession x = new BlockTargetSession(4, 6);
         x.sync();
         x.write(5, 3, 1);
-        x.read(5, 2);
-        x.send();
-        x.send();
-        x.send();
-        messageDue(x, true, 0, 0, 0, 0, 0, 0);
-        messageDue(x, true, 1, 1, 0, 0, 0, 0);
-        messageDue(x, true, 2, 2, 0, 0, 0, 0);
+        x.read(5, 3);
+        Drive.send(x, 3);
+        for (int n = 0; n < 3; n++) {
+            messageDue(x, true, n, n, COMMAND, 0, 0, 0);
+        }
+        Drive.deliver(x, true, 3);
+        messageDue(x, false, 0, 0, STATUS, 0, 5, 0);
+        messageDue(x, false, 1, 1, ASK, 1, 5, 0);
+        messageDue(x, false, 2, 2, PIECE, 0, 5, 0);
+        messageDue(x, false, 3, 2, PIECE, 1, 5, 0);
+        messageDue(x, false, 4, 2, PIECE, 2, 5, 0);
+        messageDue(x, false, 5, 2, STATUS, 0, 6, 0);
+        Drive.deliver(x, false, 2);
+        messageDue(x, true, 0, 1, DATA, 1, 0, 0);
         x.deliver(true);
-        x.deliver(true);
-        x.deliver(true);
-        messageDue(x, false, 0, 0, 4, 0, 5, 0);
-        messageDue(x, false, 1, 1, 2, 1, 5, 0);
-        messageDue(x, false, 2, 2, 3, 0, 5, 0);
-        messageDue(x, false, 3, 2, 3, 1, 5, 0);
-        messageDue(x, false, 4, 2, 4, 0, 6, 0);
-        x.deliver(false);
-        x.deliver(false);
-        messageDue(x, true, 0, 1, 1, 1, 0, 0);
+        messageDue(x, false, 4, 1, ASK, 2, 6, 0);
+        Drive.deliver(x, false, 5);
+        messageDue(x, true, 0, 1, DATA, 2, 0, 0);
         x.damage(true, 0);
-        messageDue(x, true, 0, 1, 1, 1, 0, 1);
+        messageDue(x, true, 0, 1, DATA, 2, 0, 1);
     }
 
-    private static void messageWithoutMessageOrField() {
-        check.at("promise 17, no such message or field");
+    private static void messageNeedsAMessage() {
+        at("promise 17: No such message: REFUSED");
+        BlockTargetSession x = Scenes.readWorked();
+        due("message(false, 0, 1), the first", x.message(false, 0, 1), PIECE);
+        due("message(false, 3, 1), the last", x.message(false, 3, 1), STATUS);
+        due("message(true, 0, 1), the only one", x.message(true, 0, 1), COMMAND);
+        for (int field = 0; field <= 4; field++) {
+            int f = field;
+            for (int n : new int[] {MIN, -1, 4, 5, 16, MAX}) {
+                still(Scenes::readWorked, "message(false, " + n + ", " + f + ")", y -> y.message(false, n, f), REFUSED);
+            }
+            for (int n : new int[] {MIN, -1, 1, 3, 4, MAX}) {
+                still(Scenes::readWorked, "message(true, " + n + ", " + f + ")", y -> y.message(true, n, f), REFUSED);
+            }
+            for (boolean up : new boolean[] {true, false}) {
+                still(Scenes::fresh, "message(" + up + ", 0, " + f + "), empty lines",
+                        y -> y.message(up, 0, f), REFUSED);
+                still(Scenes::closed, "message(" + up + ", 0, " + f + "), no session",
+                        y -> y.message(up, 0, f), REFUSED);
+            }
+        }
+    }
+
+    private static void messageNeedsAField() {
+        at("promise 17: No such field: REFUSED");
+        BlockTargetSession x = damagedTwo();
+        due("message(false, 2, 0), the first field", x.message(false, 2, 0), 1);
+        due("message(false, 2, 4), the last field", x.message(false, 2, 4), 1);
+        for (int field : new int[] {MIN, -2, -1, 5, 6, MAX}) {
+            for (boolean up : new boolean[] {true, false}) {
+                still(LinesTest::damagedTwo, "message(" + up + ", 0, " + field + ")",
+                        y -> y.message(up, 0, field), REFUSED);
+                still(Scenes::fresh, "message(" + up + ", 0, " + field + "), empty lines",
+                        y -> y.message(up, 0, field), REFUSED);
+            }
+        }
+    }
+
+    private static void waitingFollowsTheLines() {
+        at("promise 18: How many messages the line has");
         BlockTargetSession x = new BlockTargetSession(4, 6);
-        check.due("message(true, 0, 0)", x.message(true, 0, 0), REFUSED);
-        check.due("message(false, 0, 0)", x.message(false, 0, 0), REFUSED);
-        x.sync();
-        x.send();
-        check.due("message(true, 1, 0)", x.message(true, 1, 0), REFUSED);
-        check.due("message(true, -1, 0)", x.message(true, -1, 0), REFUSED);
-        check.due("message(true, MIN, 0)", x.message(true, Integer.MIN_VALUE, 0), REFUSED);
-        check.due("message(true, MAX, 0)", x.message(true, Integer.MAX_VALUE, 0), REFUSED);
-        check.due("message(true, 0, -1)", x.message(true, 0, -1), REFUSED);
-        check.due("message(true, 0, 5)", x.message(true, 0, 5), REFUSED);
-        check.due("message(true, 0, MAX)", x.message(true, 0, Integer.MAX_VALUE), REFUSED);
-        check.due("message(false, 0, 0)", x.message(false, 0, 0), REFUSED);
-        x.drop();
-        check.due("message(true, 0, 0) without a session", x.message(true, 0, 0), REFUSED);
+        x.read(0, 2);
+        x.write(0, 2, 4);
+        linesDue(x, 0, 0);
+        Drive.send(x, 2);
+        linesDue(x, 2, 0);
+        x.deliver(true);
+        linesDue(x, 1, 3);
+        x.damage(false, 1);
+        linesDue(x, 1, 3);
+        x.deliver(false);
+        linesDue(x, 1, 2);
+        x.deliver(false);
+        linesDue(x, 0, 0);
+        x.login();
+        linesDue(x, 0, 0);
+        still(Scenes::midst, "waiting(true)", y -> y.waiting(true), 1);
+        still(Scenes::midst, "waiting(false)", y -> y.waiting(false), 4);
+        still(Scenes::closed, "waiting(true), no session", y -> y.waiting(true), 0);
+        still(Scenes::closed, "waiting(false), no session", y -> y.waiting(false), 0);
     }
 
-    private static void fullLinesAreHeld() {
-        check.at("promise 18, the longest lines");
+    private static void waitingAtTheLongest() {
+        at("promise 18: How many messages the line has, at the most");
         BlockTargetSession x = new BlockTargetSession(4, 6);
         for (int i = 0; i < 8; i++) {
             x.read(i, 3);
         }
         for (int i = 0; i < 4; i++) {
-            check.due("send()", x.send(), i);
+            due("send()", x.send(), i);
+            linesDue(x, i + 1, 0);
         }
-        check.due("send()", x.send(), FULL);
-        check.due("waiting(true)", x.waiting(true), 4);
+        due("send()", x.send(), FULL);
         for (int i = 0; i < 4; i++) {
             x.deliver(true);
-            check.due("waiting(false)", x.waiting(false), 4 * i + 4);
+            linesDue(x, 3 - i, 4 * i + 4);
         }
         for (int i = 4; i < 8; i++) {
-            for (int n = 0; n < 4; n++) {
-                x.deliver(false);
-            }
-            check.due("send()", x.send(), i);
-            check.due("send()", x.send(), i < 7 ? FULL : NONE);
+            Drive.deliver(x, false, 4);
+            due("send()", x.send(), i);
+            due("send()", x.send(), i < 7 ? FULL : NONE);
             x.deliver(true);
-            check.due("waiting(false)", x.waiting(false), 16);
-            messageDue(x, false, 15, i, 4, 0, i + 5, 0);
+            linesDue(x, 0, 16);
+            messageDue(x, false, 12, i, PIECE, 0, i + 4, 0);
+            messageDue(x, false, 15, i, STATUS, 0, i + 5, 0);
         }
         Drive.settle(x);
-        check.due("count(3)", x.count(3), 8);
+        due("count(3)", x.count(3), 8);
+        linesDue(x, 0, 0);
     }
 
-    private static void waitingFollowsTheLines() {
-        check.at("promise 18");
-        BlockTargetSession x = new BlockTargetSession(4, 6);
-        x.read(0, 2);
-        x.write(0, 2, 4);
-        check.due("waiting(true), nothing sent", x.waiting(true), 0);
-        x.send();
-        x.send();
-        check.due("waiting(true)", x.waiting(true), 2);
-        check.due("waiting(false)", x.waiting(false), 0);
-        x.deliver(true);
-        check.due("waiting(true)", x.waiting(true), 1);
-        check.due("waiting(false)", x.waiting(false), 3);
-        x.damage(false, 1);
-        check.due("waiting(false) after damage", x.waiting(false), 3);
-        x.deliver(false);
-        check.due("waiting(false)", x.waiting(false), 2);
-        check.due("waiting(true)", x.waiting(true), 1);
-        x.deliver(false);
-        check.due("waiting(true) after the break", x.waiting(true), 0);
-        check.due("waiting(false) after the break", x.waiting(false), 0);
-        x.login();
-        check.due("waiting(true) after login", x.waiting(true), 0);
+    private static void longestLinesFromEveryBeginning() {
+        at("promise 18: How many messages the line has, at the most, after so many others");
+        for (int before = 0; before <= 17; before++) {
+            BlockTargetSession x = new BlockTargetSession(4, 6);
+            for (int i = 0; i < before; i++) {
+                Drive.syncThrough(x);
+            }
+            for (int i = 0; i < 4; i++) {
+                x.read(i, 3);
+            }
+            Drive.send(x, 4);
+            linesDue(x, 4, 0);
+            for (int i = 0; i < 4; i++) {
+                messageDue(x, true, i, before + i, COMMAND);
+            }
+            Drive.deliver(x, true, 4);
+            linesDue(x, 0, 16);
+            for (int n = 0; n < 16; n++) {
+                int i = n % 4;
+                messageDue(x, false, n, before + n / 4, i < 3 ? PIECE : STATUS, i < 3 ? i : 0);
+            }
+            due("message(false, 16, 0)", x.message(false, 16, 0), REFUSED);
+            due("damage(false, 15)", x.damage(false, 15), DONE);
+            due("damage(false, 16)", x.damage(false, 16), NONE);
+        }
     }
 }

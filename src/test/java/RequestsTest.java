@@ -1,298 +1,343 @@
-/** Promises 1 to 4, 12 and 13: a new object, write, read, sync, state and result. */
-public final class RequestsTest {
-    private static final int REFUSED = BlockTargetSession.REFUSED;
-    private static final int FULL = BlockTargetSession.FULL;
-    private static final int NONE = BlockTargetSession.NONE;
-    private static final long ABSENT = BlockTargetSession.ABSENT;
-    private static final Check check = new Check("RequestsTest");
+import java.util.function.ToLongFunction;
 
-    public static void main(String[] args) {
-        newObjectIsEmpty();
-        windowIsClamped();
-        roomIsClamped();
-        writeIsNumbered();
-        writeTestsItsArguments();
-        writtenIntsWrap();
-        readTestsItsArguments();
-        syncIsARequest();
-        requestsAreLimited();
-        argumentsAreTestedBeforeTheLimit();
-        stateFollowsTheRequest();
-        resultIsOfAGoodRead();
-        resultIsWhatTheReadSaw();
-        resultIsForgottenInABreak();
-        check.end();
+/** Promises 1 to 4, 12 and 13: a new object, write, read, sync, state and result. */
+public final class RequestsTest extends SessionChecks {
+    /** A write or a read of a stretch of blocks. */
+    private interface Maker {
+        int make(BlockTargetSession x, int first, int count);
     }
 
-    private static void newObjectIsEmpty() {
-        check.at("promise 1, empty");
-        BlockTargetSession x = new BlockTargetSession(3, 2);
-        int[] counts = {0, 0, 0, 0, 0, 0, 0, 3, 1};
-        for (int what = 0; what < counts.length; what++) {
-            check.due("count(" + what + ")", x.count(what), counts[what]);
-        }
-        for (int block = 0; block < 16; block++) {
-            check.due("disk", x.disk(block), 0);
-            check.due("present", x.present(block), 0);
-        }
-        check.due("waiting(true)", x.waiting(true), 0);
-        check.due("waiting(false)", x.waiting(false), 0);
-        check.due("cached(0)", x.cached(0), NONE);
-        check.due("state(0)", x.state(0), REFUSED);
-        check.due("login()", x.login(), REFUSED);
+    public static void main(String[] args) {
+        windowIsClamped();
+        roomIsClamped();
+        windowAndRoomAreTwoThings();
+        objectsAreApart();
+        stretchIsTested("promise 2, write", "write", (x, first, count) -> x.write(first, count, 7));
+        stretchIsTested("promise 3, read", "read", (x, first, count) -> x.read(first, count));
+        writeTakesEveryInt();
+        requestsAreNumbered();
+        requestsNeedNoSession();
+        lastRequestIsTaken();
+        requestsAreFull();
+        goodRequestsCountToo();
+        argumentsAreTestedBeforeTheLimit();
+        stateIsOfARequest();
+        stateFollowsTheRequest();
+        resultIsBelowTheCount();
+        resultIsOfARead();
+        resultIsOfAGoodRead();
+        resultIsOfARequest();
+        resultIsWhatTheReadSaw();
+        end("RequestsTest");
     }
 
     private static void windowIsClamped() {
-        check.at("promise 1, window");
-        int[] asked = {Integer.MIN_VALUE, -1, 0, 1, 2, 3, 4, 5, Integer.MAX_VALUE};
-        int[] due = {1, 1, 1, 1, 2, 3, 4, 4, 4};
+        at("promise 1: WINDOW, clamped to 1 .. 4");
+        int[] asked = {MIN, -1, 0, 1, 2, 3, 4, 5, 6, MAX};
+        int[] window = {1, 1, 1, 1, 2, 3, 4, 4, 4, 4};
         for (int k = 0; k < asked.length; k++) {
             BlockTargetSession x = new BlockTargetSession(asked[k], 3);
-            check.due("credit of window " + asked[k], x.count(7), due[k]);
-            for (int i = 0; i < 5; i++) {
+            due("CREDIT of window " + asked[k], x.count(7), window[k]);
+            for (int i = 0; i < 6; i++) {
                 x.sync();
             }
-            for (int i = 0; i < due[k]; i++) {
-                check.due("send()", x.send(), i);
+            for (int i = 0; i < window[k]; i++) {
+                due("send() in window " + asked[k], x.send(), i);
             }
-            check.due("send() beyond window " + asked[k], x.send(), FULL);
+            due("send() beyond window " + asked[k], x.send(), FULL);
             x.deliver(true);
-            check.due("carried, window " + asked[k], x.message(false, 0, 3), due[k] + 1);
+            due("carried, window " + asked[k], x.message(false, 0, 3), window[k] + 1);
             x.drop();
             x.login();
-            check.due("credit after login, window " + asked[k], x.count(7), due[k]);
+            due("CREDIT after login, window " + asked[k], x.count(7), window[k]);
         }
     }
 
     private static void roomIsClamped() {
-        check.at("promise 1, room");
-        int[] asked = {Integer.MIN_VALUE, -1, 0, 1, 2, 5, 6, 7, Integer.MAX_VALUE};
-        int[] due = {1, 1, 1, 1, 2, 5, 6, 6, 6};
+        at("promise 1: ROOM, clamped to 1 .. 6");
+        int[] asked = {MIN, -1, 0, 1, 2, 3, 4, 5, 6, 7, 8, MAX};
+        int[] room = {1, 1, 1, 1, 2, 3, 4, 5, 6, 6, 6, 6};
         for (int k = 0; k < asked.length; k++) {
             BlockTargetSession x = new BlockTargetSession(1, asked[k]);
-            for (int block = 0; block < 10; block++) {
+            for (int block = 0; block < room[k]; block++) {
                 Drive.writeThrough(x, block, 1, block + 50);
-                check.due("blocks in cache, room " + asked[k], x.count(4), Math.min(block + 1, due[k]));
             }
-            for (int block = 0; block < 10; block++) {
-                boolean gone = block < 10 - due[k];
-                check.due("disk of block " + block + ", room " + asked[k], x.disk(block), gone ? block + 50 : 0);
-            }
+            due("blocks in the cache, room " + asked[k], x.count(4), room[k]);
+            due("disk(0), room " + asked[k], x.disk(0), 0);
+            Drive.writeThrough(x, 9, 1, 59);
+            due("blocks in the cache, one more, room " + asked[k], x.count(4), room[k]);
+            due("disk(0), one more, room " + asked[k], x.disk(0), 50);
+            due("cached, one more, room " + asked[k], x.cached(room[k] - 1), 9);
         }
     }
 
-    private static void writeIsNumbered() {
-        check.at("promise 2, numbers");
-        BlockTargetSession x = new BlockTargetSession(2, 2);
-        check.due("write(0, 1, 5)", x.write(0, 1, 5), 0);
-        check.due("write(0, 1, 5)", x.write(0, 1, 5), 1);
-        check.due("read(0, 1)", x.read(0, 1), 2);
-        check.due("sync()", x.sync(), 3);
-        check.due("write(15, 1, 5)", x.write(15, 1, 5), 4);
-        check.due("state(4)", x.state(4), 0);
-        check.due("count(0)", x.count(0), 5);
-        check.due("count(1)", x.count(1), 5);
-        check.due("present(0)", x.present(0), 0);
-        check.due("waiting(true)", x.waiting(true), 0);
-        x.drop();
-        check.due("write without a session", x.write(13, 3, 5), 5);
+    private static void windowAndRoomAreTwoThings() {
+        at("promise 1: (int window, int room)");
+        BlockTargetSession narrow = new BlockTargetSession(1, 6);
+        due("CREDIT of (1, 6)", narrow.count(7), 1);
+        Drive.writeThrough(narrow, 0, 3, 1);
+        due("blocks in the cache of (1, 6)", narrow.count(4), 3);
+        BlockTargetSession wide = new BlockTargetSession(4, 1);
+        due("CREDIT of (4, 1)", wide.count(7), 4);
+        Drive.writeThrough(wide, 0, 3, 1);
+        due("blocks in the cache of (4, 1)", wide.count(4), 1);
     }
 
-    private static void writeTestsItsArguments() {
-        check.at("promise 2, arguments");
-        BlockTargetSession x = new BlockTargetSession(2, 2);
-        int number = 0;
-        for (int first = -2; first <= 18; first++) {
-            for (int count = -1; count <= 5; count++) {
-                boolean fine = first >= 0 && first <= 15 && count >= 1 && count <= 3 && first + count <= 16;
-                check.due("write(" + first + ", " + count + ", 7)", x.write(first, count, 7),
-                        fine ? number : REFUSED);
-                number += fine ? 1 : 0;
-            }
-        }
-        check.due("count(0)", x.count(0), 45);
-        check.due("write(MIN, 1, 0)", x.write(Integer.MIN_VALUE, 1, 0), REFUSED);
-        check.due("write(MAX, 3, 0)", x.write(Integer.MAX_VALUE, 3, 0), REFUSED);
-        check.due("write(0, MAX, 0)", x.write(0, Integer.MAX_VALUE, 0), REFUSED);
-        check.due("write(15, MAX, 0)", x.write(15, Integer.MAX_VALUE, 0), REFUSED);
-        check.due("write(0, MIN, 0)", x.write(0, Integer.MIN_VALUE, 0), REFUSED);
-        check.due("count(0)", x.count(0), 45);
-    }
-
-    private static void writtenIntsWrap() {
-        check.at("promise 2, wrapping");
+    private static void objectsAreApart() {
+        at("promise 1: A new object");
+        BlockTargetSession used = Scenes.midst();
         BlockTargetSession x = new BlockTargetSession(1, 6);
-        Drive.writeThrough(x, 13, 3, Integer.MAX_VALUE);
-        check.due("present(13)", x.present(13), Integer.MAX_VALUE);
-        check.due("present(14)", x.present(14), Integer.MIN_VALUE);
-        check.due("present(15)", x.present(15), Integer.MIN_VALUE + 1);
+        countsDue(x, 0, 0, 0, 0, 0, 0, 0, 1, 1);
+        linesDue(x, 0, 0);
+        presentDue(x, 0, 0, 0);
+        diskDue(x, 0, 0, 0);
+        x.drop();
+        countsDue(used, 7, 1, 3, 3, 2, 6, 4, 6, 1);
+        linesDue(used, 1, 4);
     }
 
-    private static void readTestsItsArguments() {
-        check.at("promise 3");
-        BlockTargetSession x = new BlockTargetSession(2, 2);
-        int number = 0;
-        for (int first = -2; first <= 18; first++) {
-            for (int count = -1; count <= 5; count++) {
-                boolean fine = first >= 0 && first <= 15 && count >= 1 && count <= 3 && first + count <= 16;
-                check.due("read(" + first + ", " + count + ")", x.read(first, count), fine ? number : REFUSED);
-                number += fine ? 1 : 0;
-            }
+    private static void stretchIsTested(String promise, String name, Maker maker) {
+        at(promise + ": first 0 .. 15");
+        for (int first : new int[] {0, 1, 14, 15}) {
+            isTaken(name, maker, first, 1);
         }
-        check.due("read(MIN, 1)", x.read(Integer.MIN_VALUE, 1), REFUSED);
-        check.due("read(15, MAX)", x.read(15, Integer.MAX_VALUE), REFUSED);
-        check.due("count(0)", x.count(0), 45);
-        check.due("count(1)", x.count(1), 45);
-        check.due("state(44)", x.state(44), 0);
-        x.drop();
-        check.due("read without a session", x.read(0, 1), 45);
+        for (int first : new int[] {MIN, -2, -1, 16, 17, MAX}) {
+            isRefused(name, maker, first, 1);
+        }
+        at(promise + ": count 1 .. 3");
+        for (int count = 1; count <= 3; count++) {
+            isTaken(name, maker, 0, count);
+        }
+        for (int count : new int[] {MIN, -1, 0, 4, 5, MAX}) {
+            isRefused(name, maker, 0, count);
+        }
+        at(promise + ": first + count at most 16");
+        for (int count = 1; count <= 3; count++) {
+            isTaken(name, maker, 16 - count, count);
+            isRefused(name, maker, 17 - count, count);
+        }
+        isRefused(name, maker, 15, 3);
+        isRefused(name, maker, 15, MAX);
+        isRefused(name, maker, MAX, 3);
+        // The sums of these are small, or wrap to small ones.
+        isRefused(name, maker, 16, 0);
+        isRefused(name, maker, 17, -1);
+        isRefused(name, maker, -1, 3);
+        isRefused(name, maker, MAX, MAX);
+        isRefused(name, maker, MIN, MIN);
     }
 
-    private static void syncIsARequest() {
-        check.at("promise 4");
-        BlockTargetSession x = new BlockTargetSession(2, 6);
-        Drive.writeThrough(x, 4, 2, 70);
-        check.due("sync()", x.sync(), 1);
-        check.due("state(1)", x.state(1), 0);
-        check.due("disk(4)", x.disk(4), 0);
+    private static void isTaken(String name, Maker maker, int first, int count) {
+        BlockTargetSession x = Scenes.midst();
+        due(name + " of " + count + " from " + first, maker.make(x, first, count), 7);
+        countsDue(x, 8, 2, 3, 3);
+        due("state(7)", x.state(7), OPEN);
+        linesDue(x, 1, 4);
+    }
+
+    private static void isRefused(String name, Maker maker, int first, int count) {
+        still(Scenes::midst, name + " of " + count + " from " + first,
+                x -> maker.make(x, first, count), REFUSED);
+    }
+
+    private static void writeTakesEveryInt() {
+        at("promise 2, write: an int v");
+        for (int value : new int[] {MIN, MIN + 1, -1, 0, 1, MAX - 1, MAX}) {
+            BlockTargetSession x = Scenes.fresh();
+            due("write(3, 1, " + value + ")", x.write(3, 1, value), 0);
+            due("present(3) before it is sent", x.present(3), 0);
+            Drive.finishAll(x);
+            presentDue(x, 2, 0, value, 0);
+        }
+    }
+
+    private static void requestsAreNumbered() {
+        at("promises 2 to 4: Answers its number");
+        BlockTargetSession x = Scenes.fresh();
+        due("write(0, 1, 5)", x.write(0, 1, 5), 0);
+        due("write(0, 1, 5), the same again", x.write(0, 1, 5), 1);
+        due("read(0, 1)", x.read(0, 1), 2);
+        due("sync()", x.sync(), 3);
+        due("write(16, 1, 5)", x.write(16, 1, 5), REFUSED);
+        due("read(0, 4)", x.read(0, 4), REFUSED);
+        due("sync(), the refused have no number", x.sync(), 4);
         Drive.finishAll(x);
-        check.due("state(1)", x.state(1), 2);
-        check.due("disk(4)", x.disk(4), 70);
-        check.due("disk(5)", x.disk(5), 71);
-        x.drop();
-        check.due("sync() without a session", x.sync(), 2);
+        due("read(15, 1), the others are GOOD", x.read(15, 1), 5);
+        statesDue(x, GOOD, GOOD, GOOD, GOOD, GOOD, OPEN);
     }
 
-    private static void requestsAreLimited() {
-        check.at("promises 2 to 4, 120 requests");
-        BlockTargetSession x = new BlockTargetSession(4, 2);
+    private static void requestsNeedNoSession() {
+        at("promises 2 to 4, without a session");
+        BlockTargetSession x = Scenes.closed();
+        due("write(13, 3, 5)", x.write(13, 3, 5), 7);
+        due("read(13, 3)", x.read(13, 3), 8);
+        due("sync()", x.sync(), 9);
+        due("count(1)", x.count(1), 7);
+        still(Scenes::closed, "write(13, 4, 5)", y -> y.write(13, 4, 5), REFUSED);
+        still(Scenes::closed, "read(-1, 1)", y -> y.read(-1, 1), REFUSED);
+    }
+
+    private static void lastRequestIsTaken() {
+        at("promises 2 to 4: there are 120 requests, the last one");
+        isLastTaken("write(0, 1, 5)", x -> x.write(0, 1, 5));
+        isLastTaken("read(0, 1)", x -> x.read(0, 1));
+        isLastTaken("sync()", x -> x.sync());
+    }
+
+    private static void isLastTaken(String call, ToLongFunction<BlockTargetSession> made) {
+        BlockTargetSession x = Scenes.requests(119);
+        due(call + " with 119 requests", made.applyAsLong(x), 119);
+        due("state(119)", x.state(119), OPEN);
+        due("count(0)", x.count(0), 120);
+        due(call + " with 120 requests", made.applyAsLong(x), FULL);
+        due("count(0)", x.count(0), 120);
+    }
+
+    private static void requestsAreFull() {
+        at("promises 2 to 4: there are 120 requests: FULL");
+        still(Scenes::crowded, "write(0, 1, 5)", x -> x.write(0, 1, 5), FULL);
+        still(Scenes::crowded, "write(13, 3, 5)", x -> x.write(13, 3, 5), FULL);
+        still(Scenes::crowded, "read(15, 1)", x -> x.read(15, 1), FULL);
+        still(Scenes::crowded, "read(0, 3)", x -> x.read(0, 3), FULL);
+        still(Scenes::crowded, "sync()", x -> x.sync(), FULL);
+    }
+
+    private static void goodRequestsCountToo() {
+        at("promises 2 to 4: there are 120 requests, all of them GOOD");
+        BlockTargetSession x = new BlockTargetSession(1, 1);
         for (int i = 0; i < 120; i++) {
-            int kind = i % 3;
-            int got = kind == 0 ? x.write(1, 1, i) : kind == 1 ? x.read(1, 2) : x.sync();
-            check.due("request " + i, got, i);
+            due("write", x.write(i % 16, 1, i), i);
+            due("send()", x.send(), i);
+            x.deliver(true);
+            x.deliver(false);
         }
-        check.due("write(1, 1, 1)", x.write(1, 1, 1), FULL);
-        check.due("read(1, 1)", x.read(1, 1), FULL);
-        check.due("sync()", x.sync(), FULL);
-        check.due("count(0)", x.count(0), 120);
-        check.due("state(119)", x.state(119), 0);
-        check.due("state(120)", x.state(120), REFUSED);
-        Drive.finishAll(x);
-        check.due("count(3)", x.count(3), 120);
-        check.due("count(5)", x.count(5), 120);
-        check.due("count(6)", x.count(6), 120);
-        check.due("count(7)", x.count(7), 124);
-        check.due("result(118, 0)", x.result(118, 0), 117);
-        check.due("GOOD requests are counted, write", x.write(1, 1, 1), FULL);
-        check.due("GOOD requests are counted, read", x.read(1, 1), FULL);
-        check.due("GOOD requests are counted, sync", x.sync(), FULL);
+        due("count(3)", x.count(3), 120);
+        sessionDue(x, 120, 120, 121);
+        due("state(119)", x.state(119), GOOD);
+        due("write(0, 1, 1)", x.write(0, 1, 1), FULL);
+        due("read(0, 1)", x.read(0, 1), FULL);
+        due("sync()", x.sync(), FULL);
+        x.crash();
+        due("sync() after a crash", x.sync(), FULL);
+        due("login()", x.login(), 0);
+        due("write(0, 1, 1) after a login", x.write(0, 1, 1), FULL);
+        due("count(0)", x.count(0), 120);
     }
 
     private static void argumentsAreTestedBeforeTheLimit() {
-        check.at("promises 2 and 3, order of tests");
-        BlockTargetSession x = new BlockTargetSession(4, 2);
-        for (int i = 0; i < 120; i++) {
-            x.sync();
+        at("promises 2 and 3: else REFUSED; there are 120 requests: FULL");
+        still(Scenes::crowded, "write(-1, 1, 1)", x -> x.write(-1, 1, 1), REFUSED);
+        still(Scenes::crowded, "write(0, 0, 1)", x -> x.write(0, 0, 1), REFUSED);
+        still(Scenes::crowded, "write(14, 3, 1)", x -> x.write(14, 3, 1), REFUSED);
+        still(Scenes::crowded, "read(16, 1)", x -> x.read(16, 1), REFUSED);
+        still(Scenes::crowded, "read(0, 4)", x -> x.read(0, 4), REFUSED);
+        still(Scenes::crowded, "read(15, 2)", x -> x.read(15, 2), REFUSED);
+    }
+
+    private static void stateIsOfARequest() {
+        at("promise 12: no such request: REFUSED");
+        still(Scenes::fresh, "state(0) without requests", x -> x.state(0), REFUSED);
+        due("state(0)", Scenes.requests(1).state(0), OPEN);
+        due("state(6), the last one", Scenes.midst().state(6), OPEN);
+        due("state(119), the last one", Scenes.crowded().state(119), OPEN);
+        still(Scenes::crowded, "state(120)", x -> x.state(120), REFUSED);
+        for (int request : new int[] {MIN, -2, -1, 7, 8, 119, 120, MAX}) {
+            still(Scenes::midst, "state(" + request + ")", x -> x.state(request), REFUSED);
         }
-        check.due("write(-1, 1, 1)", x.write(-1, 1, 1), REFUSED);
-        check.due("write(0, 0, 1)", x.write(0, 0, 1), REFUSED);
-        check.due("write(14, 3, 1)", x.write(14, 3, 1), REFUSED);
-        check.due("read(16, 1)", x.read(16, 1), REFUSED);
-        check.due("read(0, 4)", x.read(0, 4), REFUSED);
-        check.due("read(15, 2)", x.read(15, 2), REFUSED);
     }
 
     private static void stateFollowsTheRequest() {
-        check.at("promise 12");
-        BlockTargetSession x = new BlockTargetSession(4, 2);
+        at("promise 12: The request's state 0 .. 2");
+        BlockTargetSession x = Scenes.fresh();
         x.write(0, 2, 1);
         x.read(0, 1);
-        check.due("state(0) at first", x.state(0), 0);
+        statesDue(x, OPEN, OPEN);
         x.send();
-        check.due("state(0) sent", x.state(0), 1);
-        check.due("state(1) not sent", x.state(1), 0);
+        statesDue(x, SENT, OPEN);
         x.deliver(true);
         x.deliver(false);
         x.deliver(true);
-        check.due("state(0) finished by the target", x.state(0), 1);
+        statesDue(x, SENT, OPEN);
         x.deliver(false);
-        check.due("state(0) after the STATUS", x.state(0), 2);
+        statesDue(x, GOOD, OPEN);
         x.send();
-        check.due("state(1) sent", x.state(1), 1);
+        statesDue(x, GOOD, SENT);
         x.drop();
-        check.due("state(0) after a break", x.state(0), 2);
-        check.due("state(1) after a break", x.state(1), 0);
-        check.due("state(2)", x.state(2), REFUSED);
-        check.due("state(-1)", x.state(-1), REFUSED);
-        check.due("state(120)", x.state(120), REFUSED);
-        check.due("state(MIN)", x.state(Integer.MIN_VALUE), REFUSED);
-        check.due("state(MAX)", x.state(Integer.MAX_VALUE), REFUSED);
+        statesDue(x, GOOD, OPEN);
+        statesDue(Scenes.midst(), GOOD, GOOD, GOOD, SENT, SENT, SENT, OPEN);
+    }
+
+    private static BlockTargetSession readOf(int count) {
+        BlockTargetSession x = new BlockTargetSession(2, 3);
+        Drive.writeThrough(x, 4, 3, 30);
+        Drive.readThrough(x, 4, count);
+        return x;
+    }
+
+    private static void resultIsBelowTheCount() {
+        at("promise 13: if i is not below its count or below 0, ABSENT");
+        for (int count = 1; count <= 3; count++) {
+            int length = count;
+            BlockTargetSession x = readOf(count);
+            for (int i = 0; i < count; i++) {
+                due("result(1, " + i + ") of " + count, x.result(1, i), 30 + i);
+            }
+            for (int i : new int[] {MIN, -2, -1, count, count + 1, 3, 4, 120, MAX}) {
+                still(() -> readOf(length), "result(1, " + i + ") of " + length, y -> y.result(1, i), ABSENT);
+            }
+        }
+    }
+
+    private static void resultIsOfARead() {
+        at("promise 13: of a GOOD READ; else ABSENT, the other kinds");
+        BlockTargetSession x = readOf(3);
+        Drive.syncThrough(x);
+        statesDue(x, GOOD, GOOD, GOOD);
+        resultsDue(x, 0, ABSENT, ABSENT, ABSENT, ABSENT);
+        resultsDue(x, 1, 30, 31, 32, ABSENT);
+        resultsDue(x, 2, ABSENT, ABSENT, ABSENT, ABSENT);
+        still(Scenes::midst, "result(0, 0) of a GOOD WRITE", y -> y.result(0, 0), ABSENT);
     }
 
     private static void resultIsOfAGoodRead() {
-        check.at("promise 13");
+        at("promise 13: of a GOOD READ; else ABSENT, the other states");
         BlockTargetSession x = new BlockTargetSession(4, 6);
-        Drive.writeThrough(x, 6, 3, -40);
+        Drive.writeThrough(x, 6, 2, -40);
         x.read(6, 2);
-        x.sync();
-        check.due("result of an OPEN read", x.result(1, 0), ABSENT);
+        due("result(1, 0), OPEN", x.result(1, 0), ABSENT);
         x.send();
+        due("result(1, 0), SENT", x.result(1, 0), ABSENT);
         x.deliver(true);
-        x.deliver(false);
-        check.due("result of a SENT read", x.result(1, 0), ABSENT);
-        x.deliver(false);
-        check.due("result of a SENT read", x.result(1, 1), ABSENT);
-        x.deliver(false);
-        check.due("result(1, 0)", x.result(1, 0), -40);
-        check.due("result(1, 1)", x.result(1, 1), -39);
-        check.due("result(1, 2)", x.result(1, 2), ABSENT);
-        check.due("result(1, -1)", x.result(1, -1), ABSENT);
-        check.due("result(1, MIN)", x.result(1, Integer.MIN_VALUE), ABSENT);
-        check.due("result(1, MAX)", x.result(1, Integer.MAX_VALUE), ABSENT);
-        check.due("result of a write", x.result(0, 0), ABSENT);
-        Drive.finishAll(x);
-        check.due("result of a sync", x.result(2, 0), ABSENT);
-        check.due("result(3, 0)", x.result(3, 0), ABSENT);
-        check.due("result(-1, 0)", x.result(-1, 0), ABSENT);
-        check.due("result(MAX, 0)", x.result(Integer.MAX_VALUE, 0), ABSENT);
+        Drive.deliver(x, false, 2);
+        resultsDue(x, 1, ABSENT, ABSENT);
+        due("deliver(false), the STATUS", x.deliver(false), STATUS);
+        resultsDue(x, 1, -40, -39, ABSENT);
+        x.crash();
+        resultsDue(x, 1, -40, -39, ABSENT);
+        still(Scenes::midst, "result(3, 0), SENT with PIECE 0 taken", y -> y.result(3, 0), ABSENT);
+        still(Scenes::closed, "result(3, 0), OPEN again", y -> y.result(3, 0), ABSENT);
+    }
+
+    private static void resultIsOfARequest() {
+        at("promise 13: of a GOOD READ; else ABSENT, no such request");
+        still(Scenes::fresh, "result(0, 0) without requests", x -> x.result(0, 0), ABSENT);
+        for (int request : new int[] {MIN, -1, 7, 119, 120, MAX}) {
+            still(Scenes::midst, "result(" + request + ", 0)", x -> x.result(request, 0), ABSENT);
+        }
+        still(Scenes::crowded, "result(120, 0)", x -> x.result(120, 0), ABSENT);
     }
 
     private static void resultIsWhatTheReadSaw() {
-        check.at("promise 13, value at the time");
+        at("promise 13: Result i (from 0)");
         BlockTargetSession x = new BlockTargetSession(4, 1);
-        Drive.writeThrough(x, 0, 1, 8);
-        Drive.writeThrough(x, 1, 1, 9);
+        Drive.writeThrough(x, 0, 1, MIN);
+        Drive.writeThrough(x, 1, 1, MAX);
         x.read(0, 3);
+        x.read(1, 1);
         x.write(0, 3, 100);
         Drive.finishAll(x);
-        check.due("result(2, 0), from the disk", x.result(2, 0), 8);
-        check.due("result(2, 1), from the cache", x.result(2, 1), 9);
-        check.due("result(2, 2), never written", x.result(2, 2), 0);
-        check.due("present(2)", x.present(2), 102);
-        x.crash();
-        check.due("result(2, 1) after a crash", x.result(2, 1), 9);
-        Drive.writeThrough(x, 4, 1, Integer.MIN_VALUE);
-        x.login();
-        Drive.finishAll(x);
-        x.read(4, 1);
-        Drive.finishAll(x);
-        check.due("result(5, 0), the least int", x.result(5, 0), Integer.MIN_VALUE);
-    }
-
-    private static void resultIsForgottenInABreak() {
-        check.at("promise 13, a read done twice");
-        BlockTargetSession x = new BlockTargetSession(4, 6);
-        Drive.writeThrough(x, 3, 2, 10);
-        x.read(3, 2);
-        x.send();
-        x.deliver(true);
-        x.deliver(false);
-        x.deliver(false);
-        x.crash();
-        x.login();
-        check.due("result(1, 0) after the break", x.result(1, 0), ABSENT);
-        Drive.finishAll(x);
-        check.due("result(1, 0) of the second try", x.result(1, 0), 0);
-        check.due("result(1, 1) of the second try", x.result(1, 1), 0);
+        resultsDue(x, 2, MIN, MAX, 0);
+        resultsDue(x, 3, MAX, ABSENT);
+        presentDue(x, 0, 100, 101, 102);
     }
 }

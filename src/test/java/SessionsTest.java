@@ -1,222 +1,258 @@
 /** Promises 8 to 10 and 19: drop, crash, login and count. */
-public final class SessionsTest {
-    private static final int DONE = BlockTargetSession.DONE;
-    private static final int REFUSED = BlockTargetSession.REFUSED;
-    private static final int CLOSED = BlockTargetSession.CLOSED;
-    private static final Check check = new Check("SessionsTest");
-
+public final class SessionsTest extends SessionChecks {
     public static void main(String[] args) {
         dropBreaksTheSession();
-        dropWithoutASession();
+        dropNeedsASession();
         crashLosesTheCache();
-        crashWithoutASession();
+        crashOfAFullCache();
+        crashNeedsNoSession();
         loginBeginsANewSession();
-        loginWithASession();
-        unfinishedWriteStartsAnew();
-        countTellsTheNumbers();
-        countWithoutASession();
-        countOfAnotherWhat();
-        refusedCallsChangeNothing();
-        check.end();
-    }
-
-    /** Request 0 is GOOD, 1 and 2 are SENT with messages on both lines, 3 is OPEN. */
-    private static BlockTargetSession inTheMidst() {
-        BlockTargetSession x = new BlockTargetSession(2, 6);
-        Drive.writeThrough(x, 0, 2, 50);
-        x.write(4, 3, 60);
-        x.read(0, 2);
-        x.sync();
-        x.send();
-        x.send();
-        x.deliver(true);
-        return x;
-    }
-
-    private static void countsDue(BlockTargetSession x, int... due) {
-        for (int what = 0; what < due.length; what++) {
-            check.due("count(" + what + ")", x.count(what), due[what]);
-        }
+        loginAnswersTheOpenRequests();
+        loginNeedsNoneBefore();
+        countOfRequests();
+        countOfBlocks();
+        countOfTheSession();
+        countOfSessions();
+        countOfManySessions();
+        countNeedsAWhat();
+        end("SessionsTest");
     }
 
     private static void dropBreaksTheSession() {
-        check.at("promise 8");
-        BlockTargetSession x = inTheMidst();
-        countsDue(x, 4, 1, 2, 1, 2, 3, 1, 3, 1);
-        check.due("drop()", x.drop(), DONE);
-        countsDue(x, 4, 3, 0, 1, 2, 0, 0, 0, 1);
-        check.due("waiting(true)", x.waiting(true), 0);
-        check.due("waiting(false)", x.waiting(false), 0);
-        check.due("state(0)", x.state(0), 2);
-        check.due("state(1)", x.state(1), 0);
-        check.due("state(2)", x.state(2), 0);
-        check.due("state(3)", x.state(3), 0);
-        check.due("the cache stays", x.present(1), 51);
-        check.due("disk(1)", x.disk(1), 0);
+        at("promise 8: BREAKS the session; DONE");
+        BlockTargetSession x = Scenes.midst();
+        countsDue(x, 7, 1, 3, 3, 2, 6, 4, 6, 1);
+        due("drop()", x.drop(), DONE);
+        countsDue(x, 7, 4, 0, 3, 2, 0, 0, 0, 1);
+        linesDue(x, 0, 0);
+        BlockTargetSession y = Scenes.fresh();
+        due("drop() of a new object", y.drop(), DONE);
+        countsDue(y, 0, 0, 0, 0, 0, 0, 0, 0, 1);
     }
 
-    private static void dropWithoutASession() {
-        check.at("promise 8, no session");
-        BlockTargetSession x = inTheMidst();
-        x.drop();
-        String before = Drive.tell(x);
-        check.due("drop()", x.drop(), CLOSED);
-        check.due("nothing is changed", before.equals(Drive.tell(x)) ? 1 : 0, 1);
+    private static void dropNeedsASession() {
+        at("promise 8: there is none: CLOSED");
+        still(Scenes::closed, "drop()", x -> x.drop(), CLOSED);
+        BlockTargetSession x = Scenes.closed();
         x.login();
-        check.due("drop()", x.drop(), DONE);
-        x.crash();
-        check.due("drop() after a crash", x.drop(), CLOSED);
+        due("drop() after a login", x.drop(), DONE);
+        due("drop() after a drop", x.drop(), CLOSED);
+        BlockTargetSession y = Scenes.midst();
+        y.crash();
+        due("drop() after a crash", y.drop(), CLOSED);
+        BlockTargetSession z = Scenes.midst();
+        z.damage(true, 0);
+        z.deliver(true);
+        due("drop() after a damaged message", z.drop(), CLOSED);
     }
 
     private static void crashLosesTheCache() {
-        check.at("promise 9");
-        BlockTargetSession x = inTheMidst();
-        check.due("flush()", x.flush(), 0);
-        check.due("crash()", x.crash(), DONE);
-        countsDue(x, 4, 3, 0, 1, 0, 0, 0, 0, 1);
-        check.due("what was flushed stays", x.present(0), 50);
-        check.due("what was cached is lost", x.present(1), 0);
-        check.due("disk(1)", x.disk(1), 0);
-        check.due("cached(0)", x.cached(0), BlockTargetSession.NONE);
-        check.due("state(0) stays GOOD", x.state(0), 2);
-        check.due("state(1)", x.state(1), 0);
-        check.due("waiting(true)", x.waiting(true), 0);
-        check.due("waiting(false)", x.waiting(false), 0);
-        check.due("send()", x.send(), CLOSED);
-        check.due("login()", x.login(), 3);
-        Drive.finishAll(x);
-        check.due("present(6)", x.present(6), 62);
-        check.due("result(2, 0)", x.result(2, 0), 50);
-        check.due("result(2, 1)", x.result(2, 1), 0);
+        at("promise 9: The session BREAKS, and the CACHE becomes empty without writing. DONE");
+        BlockTargetSession x = Scenes.midst();
+        presentDue(x, 0, 50, 51);
+        due("crash()", x.crash(), DONE);
+        countsDue(x, 7, 4, 0, 3, 0, 0, 0, 0, 1);
+        linesDue(x, 0, 0);
+        cacheDue(x);
+        presentDue(x, 0, 40, 0);
+        diskDue(x, 0, 40, 0);
+        statesDue(x, GOOD, GOOD, GOOD, OPEN, OPEN, OPEN, OPEN);
+        resultsDue(x, 2, 50, 51);
+        due("send()", x.send(), CLOSED);
+        due("flush()", x.flush(), NONE);
     }
 
-    private static void crashWithoutASession() {
-        check.at("promise 9, no session");
-        BlockTargetSession x = inTheMidst();
-        x.drop();
-        check.due("count(4)", x.count(4), 2);
-        check.due("crash()", x.crash(), DONE);
-        countsDue(x, 4, 3, 0, 1, 0, 0, 0, 0, 1);
-        check.due("present(0)", x.present(0), 0);
-        check.due("crash() again", x.crash(), DONE);
-        check.due("login()", x.login(), 3);
+    private static void crashOfAFullCache() {
+        at("promise 9: the CACHE becomes empty, a full one");
+        for (int room = 1; room <= 6; room++) {
+            BlockTargetSession x = new BlockTargetSession(1, room);
+            for (int block = 0; block < room; block++) {
+                Drive.writeThrough(x, block, 1, 9);
+            }
+            due("count(4) before", x.count(4), room);
+            due("crash()", x.crash(), DONE);
+            cacheDue(x);
+            for (int block = 0; block < room; block++) {
+                presentDue(x, block, 0);
+            }
+            x.login();
+            Drive.writeThrough(x, room, 1, 8);
+            cacheDue(x, room);
+        }
+    }
+
+    private static void crashNeedsNoSession() {
+        at("promise 9: if there is one; DONE, also without a session");
+        BlockTargetSession x = Scenes.closed();
+        due("count(4)", x.count(4), 2);
+        due("crash()", x.crash(), DONE);
+        countsDue(x, 7, 4, 0, 3, 0, 0, 0, 0, 1);
+        presentDue(x, 0, 40, 0);
+        due("crash() again", x.crash(), DONE);
+        due("login()", x.login(), 4);
+        due("crash() of an empty cache", x.crash(), DONE);
+        due("login()", x.login(), 4);
+        due("count(8)", x.count(8), 3);
     }
 
     private static void loginBeginsANewSession() {
-        check.at("promise 10");
-        BlockTargetSession x = inTheMidst();
-        x.drop();
-        check.due("login()", x.login(), 3);
-        countsDue(x, 4, 3, 0, 1, 2, 0, 0, 2, 2);
-        check.due("send()", x.send(), 1);
-        check.due("send()", x.send(), 2);
-        check.due("send()", x.send(), BlockTargetSession.FULL);
-        x.deliver(true);
-        check.due("carried, counted anew", x.message(false, 0, 3), 2);
-        x.drop();
+        at("promise 10: A new session");
+        BlockTargetSession x = Scenes.closed();
         x.login();
-        Drive.finishAll(x);
-        countsDue(x, 4, 0, 0, 4, 0, 3, 3, 5, 3);
-        x.drop();
-        check.due("login() with none OPEN", x.login(), 0);
-        countsDue(x, 4, 0, 0, 4, 0, 0, 0, 2, 4);
-    }
-
-    private static void loginWithASession() {
-        check.at("promise 10, there is a session");
-        BlockTargetSession x = inTheMidst();
-        String before = Drive.tell(x);
-        check.due("login()", x.login(), REFUSED);
-        check.due("nothing is changed", before.equals(Drive.tell(x)) ? 1 : 0, 1);
-        x.crash();
-        x.login();
-        check.due("login() after a login", x.login(), REFUSED);
-        check.due("count(8)", x.count(8), 2);
-    }
-
-    private static void unfinishedWriteStartsAnew() {
-        check.at("promise 10, a write begun twice");
-        BlockTargetSession x = new BlockTargetSession(1, 6);
-        x.write(7, 3, 1);
-        x.send();
+        countsDue(x, 7, 4, 0, 3, 2, 0, 0, 3, 2);
+        linesDue(x, 0, 0);
+        presentDue(x, 0, 50, 51);
+        due("send()", x.send(), 3);
         x.deliver(true);
-        x.deliver(false);
-        x.deliver(true);
-        check.due("ASK 2 in the first session", x.message(false, 0, 2), 2);
-        x.drop();
-        x.login();
-        x.send();
-        check.due("COMMAND", x.message(true, 0, 1), 0);
-        x.deliver(true);
-        check.due("ASK 1 in the second session", x.message(false, 0, 2), 1);
-        check.due("count(4)", x.count(4), 0);
+        due("carried by a PIECE, counted anew", x.message(false, 0, 3), 3);
+        due("carried by the STATUS, counted anew", x.message(false, 3, 3), 4);
         Drive.settle(x);
-        check.due("present(9)", x.present(9), 3);
-        check.due("state(0)", x.state(0), 2);
+        Drive.finishAll(x);
+        countsDue(x, 7, 0, 0, 7, 1, 4, 4, 7, 2);
+        resultsDue(x, 3, 50, 51, 0);
     }
 
-    private static void countTellsTheNumbers() {
-        check.at("promise 19");
+    private static BlockTargetSession opened(int open) {
+        BlockTargetSession x = Scenes.requests(open);
+        x.drop();
+        return x;
+    }
+
+    private static void loginAnswersTheOpenRequests() {
+        at("promise 10: Answers how many requests are OPEN");
+        for (int open : new int[] {0, 1, 2, 119, 120}) {
+            BlockTargetSession x = opened(open);
+            due("login() with " + open + " OPEN", x.login(), open);
+            due("count(1)", x.count(1), open);
+        }
+        due("login(), three SENT are OPEN again", Scenes.closed().login(), 4);
+        BlockTargetSession x = Scenes.fresh();
+        Drive.readThrough(x, 0, 1);
+        x.drop();
+        due("login() with GOOD ones alone", x.login(), 0);
+    }
+
+    private static BlockTargetSession second() {
+        BlockTargetSession x = Scenes.closed();
+        x.login();
+        Drive.send(x, 2);
+        return x;
+    }
+
+    private static void loginNeedsNoneBefore() {
+        at("promise 10: there is one: REFUSED");
+        still(Scenes::fresh, "login() of a new object", x -> x.login(), REFUSED);
+        still(Scenes::midst, "login()", x -> x.login(), REFUSED);
+        still(SessionsTest::second, "login() in a second session", x -> x.login(), REFUSED);
+        BlockTargetSession x = Scenes.midst();
+        x.damage(false, 0);
+        due("login(), damaged but not yet broken", x.login(), REFUSED);
+        x.deliver(false);
+        due("login(), broken", x.login(), 4);
+    }
+
+    private static void countOfRequests() {
+        at("promise 19: How many requests there are (0), OPEN (1), SENT (2), GOOD (3)");
         BlockTargetSession x = new BlockTargetSession(2, 6);
-        countsDue(x, 0, 0, 0, 0, 0, 0, 0, 2, 1);
+        countsDue(x, 0, 0, 0, 0);
         x.write(0, 1, 1);
+        countsDue(x, 1, 1, 0, 0);
         x.read(0, 1);
         x.sync();
-        countsDue(x, 3, 3, 0, 0, 0, 0, 0, 2, 1);
-        x.send();
-        countsDue(x, 3, 2, 1, 0, 0, 1, 0, 2, 1);
-        x.send();
-        countsDue(x, 3, 1, 2, 0, 0, 2, 0, 2, 1);
-        x.deliver(true);
-        countsDue(x, 3, 1, 2, 0, 1, 2, 1, 2, 1);
-        x.deliver(true);
-        countsDue(x, 3, 1, 2, 0, 1, 2, 2, 2, 1);
+        countsDue(x, 3, 3, 0, 0);
+        Drive.send(x, 2);
+        countsDue(x, 3, 1, 2, 0);
+        Drive.deliver(x, true, 2);
+        countsDue(x, 3, 1, 2, 0);
         x.deliver(false);
-        countsDue(x, 3, 1, 1, 1, 1, 2, 2, 3, 1);
+        countsDue(x, 3, 1, 1, 1);
         x.deliver(false);
-        countsDue(x, 3, 1, 1, 1, 1, 2, 2, 3, 1);
+        countsDue(x, 3, 1, 1, 1);
         x.deliver(false);
-        countsDue(x, 3, 1, 0, 2, 1, 2, 2, 4, 1);
+        countsDue(x, 3, 1, 0, 2);
+        Drive.finishAll(x);
+        countsDue(x, 3, 0, 0, 3);
+        countsDue(Scenes.crowded(), 120, 120, 0, 0);
+    }
+
+    private static void countOfBlocks() {
+        at("promise 19: blocks in the CACHE (4)");
+        BlockTargetSession x = new BlockTargetSession(2, 4);
+        due("count(4)", x.count(4), 0);
+        Drive.writeThrough(x, 0, 3, 1);
+        due("count(4)", x.count(4), 3);
+        Drive.writeThrough(x, 2, 2, 1);
+        due("count(4), one of the two is new", x.count(4), 4);
+        Drive.writeThrough(x, 9, 3, 1);
+        due("count(4), no more than ROOM", x.count(4), 4);
         x.flush();
-        countsDue(x, 3, 1, 0, 2, 0, 2, 2, 4, 1);
-    }
-
-    private static void countWithoutASession() {
-        check.at("promise 19, no session");
-        BlockTargetSession x = inTheMidst();
+        due("count(4)", x.count(4), 3);
         x.drop();
-        countsDue(x, 4, 3, 0, 1, 2, 0, 0, 0, 1);
-        x.login();
+        due("count(4) without a session", x.count(4), 3);
         x.crash();
-        x.login();
-        check.due("count(8), a drop and a crash", x.count(8), 3);
+        due("count(4) after a crash", x.count(4), 0);
     }
 
-    private static void countOfAnotherWhat() {
-        check.at("promise 19, another what");
-        BlockTargetSession x = inTheMidst();
-        check.due("count(9)", x.count(9), REFUSED);
-        check.due("count(-1)", x.count(-1), REFUSED);
-        check.due("count(MIN)", x.count(Integer.MIN_VALUE), REFUSED);
-        check.due("count(MAX)", x.count(Integer.MAX_VALUE), REFUSED);
-    }
-
-    private static void refusedCallsChangeNothing() {
-        check.at("terms, refused calls");
-        BlockTargetSession x = inTheMidst();
-        String before = Drive.tell(x);
-        x.write(16, 1, 1);
-        x.read(0, 4);
+    private static void countOfTheSession() {
+        at("promise 19: SENDS (5), DONES (6), CREDIT (7; these three 0 without a session)");
+        BlockTargetSession x = new BlockTargetSession(2, 6);
+        sessionDue(x, 0, 0, 2);
+        x.write(0, 2, 1);
+        sessionDue(x, 0, 0, 2);
         x.send();
-        x.damage(true, 9);
+        sessionDue(x, 1, 0, 2);
+        x.deliver(true);
+        x.deliver(false);
+        sessionDue(x, 1, 0, 2);
+        x.deliver(true);
+        sessionDue(x, 1, 1, 2);
+        x.deliver(false);
+        sessionDue(x, 1, 1, 3);
+        x.drop();
+        sessionDue(x, 0, 0, 0);
+        x.crash();
+        sessionDue(x, 0, 0, 0);
         x.login();
-        x.state(99);
-        x.result(99, 0);
-        x.present(99);
-        x.disk(99);
-        x.cached(99);
-        x.message(true, 99, 0);
-        x.count(99);
-        check.due("nothing is changed", before.equals(Drive.tell(x)) ? 1 : 0, 1);
+        sessionDue(x, 0, 0, 2);
+        x.crash();
+        sessionDue(x, 0, 0, 0);
+    }
+
+    private static void countOfSessions() {
+        at("promise 19: sessions so far, the first one counted (8)");
+        BlockTargetSession x = Scenes.fresh();
+        due("count(8)", x.count(8), 1);
+        due("login(), refused", x.login(), REFUSED);
+        due("count(8)", x.count(8), 1);
+        x.drop();
+        due("count(8) without a session", x.count(8), 1);
+        x.login();
+        due("count(8)", x.count(8), 2);
+        x.crash();
+        x.crash();
+        due("count(8)", x.count(8), 2);
+        x.login();
+        due("count(8)", x.count(8), 3);
+    }
+
+    private static void countOfManySessions() {
+        at("promise 19: sessions so far, as many as 512 calls can begin");
+        BlockTargetSession x = Scenes.fresh();
+        for (int i = 0; i < 255; i++) {
+            x.drop();
+            x.login();
+        }
+        due("count(8)", x.count(8), 256);
+        due("count(7), the 512th call", x.count(7), 2);
+    }
+
+    private static void countNeedsAWhat() {
+        at("promise 19: another what: REFUSED");
+        due("count(0), the first", Scenes.midst().count(0), 7);
+        due("count(8), the last", Scenes.midst().count(8), 1);
+        for (int what : new int[] {MIN, -2, -1, 9, 10, MAX}) {
+            still(Scenes::midst, "count(" + what + ")", x -> x.count(what), REFUSED);
+            still(Scenes::closed, "count(" + what + "), no session", x -> x.count(what), REFUSED);
+        }
     }
 }

@@ -1,190 +1,176 @@
-/** Promises 11 and 14 to 16: flush, present, disk and cached; and PUTTING. */
-public final class StoreTest {
-    private static final int NONE = BlockTargetSession.NONE;
-    private static final long ABSENT = BlockTargetSession.ABSENT;
-    private static final Check check = new Check("StoreTest");
-
+/** Promises 11 and 14 to 16: flush, present, disk and cached. */
+public final class StoreTest extends SessionChecks {
     public static void main(String[] args) {
         flushWritesTheFirstBlock();
-        flushWithoutASession();
-        presentIsCacheElseDisk();
-        diskChangesOnlyByWritingBack();
-        blocksOutOfRange();
-        cachedTellsTheOrder();
-        putKeepsThePlace();
-        putSendsTheFirstBlockAway();
-        longWriteInASmallRoom();
-        blockComesBackBehindTheOthers();
-        syncEmptiesAFullCache();
-        check.end();
+        flushAnswersTheBlock();
+        flushNeedsABlock();
+        flushNeedsNoSession();
+        presentIsOfABlock();
+        presentIsTheCachesElseTheDisks();
+        diskIsOfABlock();
+        diskChangesOnlyByWriting();
+        cachedIsOfAPlace();
+        cachedIsOfAFullCache();
+        cachedOfAnEmptyCache();
+        end("StoreTest");
     }
 
-    private static void cacheDue(BlockTargetSession x, int... blocks) {
-        check.due("count(4)", x.count(4), blocks.length);
-        for (int place = 0; place < blocks.length; place++) {
-            check.due("cached(" + place + ")", x.cached(place), blocks[place]);
-        }
-        check.due("cached(" + blocks.length + ")", x.cached(blocks.length), NONE);
-    }
-
-    private static void flushWritesTheFirstBlock() {
-        check.at("promise 11");
-        BlockTargetSession x = new BlockTargetSession(1, 6);
-        check.due("flush() of an empty cache", x.flush(), NONE);
+    /** The CACHE is 8, 2, 5 and is full. */
+    private static BlockTargetSession threeCached() {
+        BlockTargetSession x = new BlockTargetSession(1, 3);
         Drive.writeThrough(x, 8, 1, 80);
         Drive.writeThrough(x, 2, 1, 20);
         Drive.writeThrough(x, 5, 1, 50);
-        check.due("flush()", x.flush(), 8);
-        check.due("disk(8)", x.disk(8), 80);
-        check.due("disk(2)", x.disk(2), 0);
-        check.due("present(8)", x.present(8), 80);
+        return x;
+    }
+
+    private static void flushWritesTheFirstBlock() {
+        at("promise 11: The target writes its CACHE's first block to the DISK and takes it out of the CACHE");
+        BlockTargetSession x = threeCached();
+        due("flush()", x.flush(), 8);
         cacheDue(x, 2, 5);
-        check.due("flush()", x.flush(), 2);
-        check.due("flush()", x.flush(), 5);
-        check.due("disk(5)", x.disk(5), 50);
-        check.due("flush()", x.flush(), NONE);
+        diskDue(x, 8, 80);
+        diskDue(x, 2, 0);
+        diskDue(x, 5, 0);
+        presentDue(x, 8, 80);
+        due("flush()", x.flush(), 2);
+        cacheDue(x, 5);
+        due("flush(), the last one", x.flush(), 5);
         cacheDue(x);
-        check.due("sends are untouched", x.count(5), 3);
+        diskDue(x, 2, 20);
+        diskDue(x, 5, 50);
+        sessionDue(x, 3, 3, 4);
     }
 
-    private static void flushWithoutASession() {
-        check.at("promise 11, no session");
-        BlockTargetSession x = new BlockTargetSession(1, 6);
-        Drive.writeThrough(x, 0, 2, 80);
-        x.drop();
-        check.due("flush()", x.flush(), 0);
-        check.due("disk(0)", x.disk(0), 80);
-        x.crash();
-        check.due("flush()", x.flush(), NONE);
-        check.due("disk(1)", x.disk(1), 0);
-    }
-
-    private static void presentIsCacheElseDisk() {
-        check.at("promise 14");
-        BlockTargetSession x = new BlockTargetSession(1, 6);
-        Drive.writeThrough(x, 3, 1, 33);
-        check.due("present(3) in the cache", x.present(3), 33);
-        x.flush();
-        check.due("present(3) on the disk", x.present(3), 33);
-        Drive.writeThrough(x, 3, 1, -34);
-        check.due("present(3), the cache goes first", x.present(3), -34);
-        check.due("disk(3)", x.disk(3), 33);
-        x.crash();
-        check.due("present(3) after a crash", x.present(3), 33);
-        check.due("present(0)", x.present(0), 0);
-    }
-
-    private static void diskChangesOnlyByWritingBack() {
-        check.at("promise 15");
-        BlockTargetSession x = new BlockTargetSession(1, 6);
-        Drive.writeThrough(x, 14, 2, Integer.MIN_VALUE);
-        check.due("disk(14)", x.disk(14), 0);
-        x.flush();
-        check.due("disk(14)", x.disk(14), Integer.MIN_VALUE);
-        check.due("disk(15)", x.disk(15), 0);
-        x.drop();
-        x.login();
-        check.due("disk(14) after a break", x.disk(14), Integer.MIN_VALUE);
-        x.sync();
-        Drive.finishAll(x);
-        check.due("disk(15)", x.disk(15), Integer.MIN_VALUE + 1);
-        x.crash();
-        check.due("disk(15) after a crash", x.disk(15), Integer.MIN_VALUE + 1);
-    }
-
-    private static void blocksOutOfRange() {
-        check.at("promises 14 and 15, out of range");
-        BlockTargetSession x = new BlockTargetSession(1, 6);
-        int[] wrong = {-1, 16, 17, Integer.MIN_VALUE, Integer.MAX_VALUE};
-        for (int block : wrong) {
-            check.due("present(" + block + ")", x.present(block), ABSENT);
-            check.due("disk(" + block + ")", x.disk(block), ABSENT);
+    private static void flushAnswersTheBlock() {
+        at("promise 11: Answers the block");
+        for (int block = 0; block < 16; block++) {
+            BlockTargetSession x = Scenes.fresh();
+            Drive.writeThrough(x, block, 1, -7);
+            due("flush()", x.flush(), block);
+            due("disk(" + block + ")", x.disk(block), -7);
         }
-        check.due("present(15)", x.present(15), 0);
-        check.due("disk(15)", x.disk(15), 0);
     }
 
-    private static void cachedTellsTheOrder() {
-        check.at("promise 16");
-        BlockTargetSession x = new BlockTargetSession(1, 6);
-        cacheDue(x);
-        Drive.writeThrough(x, 9, 1, 1);
-        Drive.writeThrough(x, 0, 1, 1);
-        Drive.writeThrough(x, 4, 2, 1);
-        cacheDue(x, 9, 0, 4, 5);
-        check.due("cached(-1)", x.cached(-1), NONE);
-        check.due("cached(6)", x.cached(6), NONE);
-        check.due("cached(7)", x.cached(7), NONE);
-        check.due("cached(MIN)", x.cached(Integer.MIN_VALUE), NONE);
-        check.due("cached(MAX)", x.cached(Integer.MAX_VALUE), NONE);
-        x.crash();
-        cacheDue(x);
-    }
-
-    private static void putKeepsThePlace() {
-        check.at("PUTTING, a block that is there");
-        BlockTargetSession x = new BlockTargetSession(1, 3);
-        Drive.writeThrough(x, 1, 3, 10);
-        Drive.writeThrough(x, 1, 1, 99);
-        cacheDue(x, 1, 2, 3);
-        check.due("present(1)", x.present(1), 99);
-        check.due("disk(1)", x.disk(1), 0);
-        Drive.writeThrough(x, 7, 1, 70);
-        cacheDue(x, 2, 3, 7);
-        check.due("disk(1), as changed", x.disk(1), 99);
-    }
-
-    private static void putSendsTheFirstBlockAway() {
-        check.at("PUTTING, a full cache");
-        BlockTargetSession x = new BlockTargetSession(1, 2);
-        Drive.writeThrough(x, 1, 1, 10);
-        Drive.writeThrough(x, 2, 1, 20);
-        check.due("disk(1), the cache is just full", x.disk(1), 0);
-        Drive.writeThrough(x, 3, 1, 30);
-        cacheDue(x, 2, 3);
-        check.due("disk(1)", x.disk(1), 10);
-        check.due("disk(2)", x.disk(2), 0);
-        check.due("disk(3)", x.disk(3), 0);
-    }
-
-    private static void longWriteInASmallRoom() {
-        check.at("PUTTING, three blocks into a room of one");
-        BlockTargetSession x = new BlockTargetSession(1, 1);
-        Drive.writeThrough(x, 5, 3, 7);
-        cacheDue(x, 7);
-        check.due("disk(5)", x.disk(5), 7);
-        check.due("disk(6)", x.disk(6), 8);
-        check.due("disk(7)", x.disk(7), 0);
-        check.due("present(7)", x.present(7), 9);
-        Drive.writeThrough(x, 5, 3, 70);
-        cacheDue(x, 7);
-        check.due("disk(7), gone and come again", x.disk(7), 9);
-        check.due("present(7)", x.present(7), 72);
-    }
-
-    private static void blockComesBackBehindTheOthers() {
-        check.at("PUTTING, a block that was flushed");
-        BlockTargetSession x = new BlockTargetSession(1, 3);
-        Drive.writeThrough(x, 1, 3, 10);
-        x.flush();
-        Drive.writeThrough(x, 1, 1, 11);
-        cacheDue(x, 2, 3, 1);
-        check.due("disk(1)", x.disk(1), 10);
-        check.due("disk(2)", x.disk(2), 0);
-    }
-
-    private static void syncEmptiesAFullCache() {
-        check.at("SYNC of a full cache");
-        BlockTargetSession x = new BlockTargetSession(1, 6);
-        Drive.writeThrough(x, 10, 3, 10);
-        Drive.writeThrough(x, 0, 3, 20);
-        check.due("count(4)", x.count(4), 6);
-        x.sync();
-        Drive.finishAll(x);
-        cacheDue(x);
+    private static void flushNeedsABlock() {
+        at("promise 11: the CACHE is empty: NONE");
+        still(Scenes::fresh, "flush() of a new object", x -> x.flush(), NONE);
+        BlockTargetSession x = threeCached();
         for (int i = 0; i < 3; i++) {
-            check.due("disk", x.disk(10 + i), 10 + i);
-            check.due("disk", x.disk(i), 20 + i);
+            x.flush();
         }
+        due("flush(), all are flushed", x.flush(), NONE);
+        BlockTargetSession y = threeCached();
+        Drive.syncThrough(y);
+        due("flush() after a SYNC", y.flush(), NONE);
+        diskDue(y, 8, 80);
+        BlockTargetSession z = threeCached();
+        z.crash();
+        due("flush() after a crash", z.flush(), NONE);
+        diskDue(z, 8, 0);
+    }
+
+    private static void flushNeedsNoSession() {
+        at("promise 11, without a session");
+        BlockTargetSession x = Scenes.closed();
+        due("flush()", x.flush(), 0);
+        diskDue(x, 0, 50, 0);
+        due("flush()", x.flush(), 1);
+        diskDue(x, 0, 50, 51);
+        due("flush()", x.flush(), NONE);
+        due("drop(), there is still no session", x.drop(), CLOSED);
+    }
+
+    private static void presentIsOfABlock() {
+        at("promise 14: The PRESENT value of the block; out of range ABSENT");
+        BlockTargetSession x = new BlockTargetSession(1, 6);
+        Drive.writeThrough(x, 0, 1, 11);
+        Drive.writeThrough(x, 15, 1, 12);
+        presentDue(x, 0, 11, 0);
+        presentDue(x, 14, 0, 12);
+        for (int block : new int[] {MIN, -2, -1, 16, 17, 31, MAX}) {
+            still(Scenes::midst, "present(" + block + ")", y -> y.present(block), ABSENT);
+        }
+    }
+
+    private static void presentIsTheCachesElseTheDisks() {
+        at("promise 14: The PRESENT value of the block");
+        BlockTargetSession x = Scenes.midst();
+        due("present(0), in the cache and on the disk", x.present(0), 50);
+        due("present(1), in the cache", x.present(1), 51);
+        due("present(2), in neither", x.present(2), 0);
+        x.flush();
+        due("present(0), on the disk", x.present(0), 50);
+        x.crash();
+        due("present(0) after a crash", x.present(0), 50);
+        due("present(1) after a crash", x.present(1), 0);
+    }
+
+    private static void diskIsOfABlock() {
+        at("promise 15: The DISK's value of the block; out of range ABSENT");
+        BlockTargetSession x = new BlockTargetSession(1, 6);
+        Drive.writeThrough(x, 0, 1, 11);
+        Drive.writeThrough(x, 15, 1, 12);
+        Drive.syncThrough(x);
+        diskDue(x, 0, 11, 0);
+        diskDue(x, 14, 0, 12);
+        for (int block : new int[] {MIN, -2, -1, 16, 17, 31, MAX}) {
+            still(Scenes::midst, "disk(" + block + ")", y -> y.disk(block), ABSENT);
+        }
+    }
+
+    private static void diskChangesOnlyByWriting() {
+        at("promise 15: The DISK's value of the block");
+        BlockTargetSession x = new BlockTargetSession(1, 6);
+        Drive.writeThrough(x, 14, 2, MIN);
+        diskDue(x, 14, 0, 0);
+        x.flush();
+        diskDue(x, 14, MIN, 0);
+        x.drop();
+        diskDue(x, 14, MIN, 0);
+        x.login();
+        diskDue(x, 14, MIN, 0);
+        Drive.syncThrough(x);
+        diskDue(x, 14, MIN, MIN + 1);
+        x.crash();
+        diskDue(x, 14, MIN, MIN + 1);
+    }
+
+    private static void cachedIsOfAPlace() {
+        at("promise 16: The block at the place (from 0) in the CACHE; no such place: NONE");
+        cacheDue(threeCached(), 8, 2, 5);
+        for (int place : new int[] {MIN, -2, -1, 3, 4, 6, 7, MAX}) {
+            still(StoreTest::threeCached, "cached(" + place + ")", x -> x.cached(place), NONE);
+        }
+        // The CACHE holds less than it has room for.
+        still(Scenes::midst, "cached(2) of two", x -> x.cached(2), NONE);
+        still(Scenes::closed, "cached(1) of two, no session", x -> x.cached(1), 1);
+    }
+
+    private static void cachedIsOfAFullCache() {
+        at("promise 16: The block at the place, in a CACHE of 1 to 6");
+        int[] blocks = {15, 0, 7, 3, 14, 1};
+        BlockTargetSession x = new BlockTargetSession(4, 6);
+        for (int size = 1; size <= 6; size++) {
+            Drive.writeThrough(x, blocks[size - 1], 1, size);
+            for (int place = 0; place < 6; place++) {
+                due("cached(" + place + ") of " + size, x.cached(place), place < size ? blocks[place] : NONE);
+            }
+        }
+        due("cached(6) of 6", x.cached(6), NONE);
+    }
+
+    private static void cachedOfAnEmptyCache() {
+        at("promise 16: no such place: NONE, an empty CACHE");
+        still(Scenes::fresh, "cached(0) of a new object", x -> x.cached(0), NONE);
+        still(Scenes::fresh, "cached(-1) of a new object", x -> x.cached(-1), NONE);
+        BlockTargetSession x = threeCached();
+        x.crash();
+        due("cached(0) after a crash", x.cached(0), NONE);
+        BlockTargetSession y = threeCached();
+        for (int i = 0; i < 3; i++) {
+            y.flush();
+        }
+        due("cached(0), all are flushed", y.cached(0), NONE);
     }
 }

@@ -7,7 +7,7 @@ import java.util.regex.Pattern;
 
 /**
  * Prints a test, the class ReadmeRuns, made of the Java examples in README.md: every call of theirs
- * must answer what the comment behind it says. So the examples are compiled as they stand.
+ * must answer what the comment behind it says. Made into Java, a call that javac refuses fails too.
  */
 final class ReadmeExamples {
     private static final String BEGIN = "```java";
